@@ -29,10 +29,10 @@ public final class RankTrain {
     public RankTrain() {
         Numbers numbers = new Numbers();
         bench = new Bench();
-        store = new Store(numbers);
+        store = new Store();
         line = new Line();
         machine = new Machine(bench, store, numbers);
-        sentence = new Sentence(line, bench, store, numbers, machine);
+        sentence = new Sentence(line, bench, store, machine);
         answer = ' ';
         answered = Store.EMPTY_LIST;
     }
@@ -52,7 +52,11 @@ public final class RankTrain {
 
     public char run() {
         bench.clear();
-        answer = answerOfLine();
+        try {
+            answer = sentence.answer();
+        } catch (IllegalStateException stopped) {
+            answer = 'e';
+        }
         line.clear();
         lines++;
         costOfAll += bench.paid;
@@ -68,14 +72,6 @@ public final class RankTrain {
             kept.answers++;
         }
         return answer;
-    }
-
-    private char answerOfLine() {
-        try {
-            return sentence.answer();
-        } catch (IllegalStateException stopped) {
-            return 'e';
-        }
     }
 
     public int retype() throws NoSuchElementException, UnsupportedOperationException {
@@ -257,17 +253,36 @@ public final class RankTrain {
             }
         }
 
+        /** Adds axes whose lengths are the cells of another noun. */
+        void addAxesToldBy(Noun shape) {
+            for (int k = 0; k < shape.count; k++) {
+                addAxis(shape.cells[k]);
+            }
+        }
+
+        /** Adds the axes of so many items of another noun. */
+        void addItems(Noun other, long items) {
+            addAxis(items);
+            for (int k = 1; k < other.axes; k++) {
+                addAxis(other.lengths[k]);
+            }
+        }
+
+        /** Takes the shape and the cells of an item of another noun, that has one at this index. */
+        void takeItem(Noun other, int index) {
+            for (int k = 1; k < other.axes; k++) {
+                addAxis(other.lengths[k]);
+            }
+            copyCells(other, index * count, 0, count);
+        }
+
         int items() {
             return axes == 0 ? 1 : lengths[0];
         }
 
         int itemCells() {
-            return axes == 0 ? 1 : cellsOfLast(axes - 1);
-        }
-
-        int cellsOfLast(int lastAxes) {
             int product = 1;
-            for (int k = Math.max(0, axes - lastAxes); k < axes; k++) {
+            for (int k = 1; k < axes; k++) {
                 product *= lengths[k];
             }
             return product;
@@ -284,18 +299,19 @@ public final class RankTrain {
     /** A noun that is kept for good, just once for each kind, shape and cells. */
     private static final class Kept {
         final Noun noun;
-        final int boxDepth;
-        final long characters;
-        /** The number of the first noun that is the same for comparing, or -1 if this one is not even the same as itself. */
-        final int twin;
+        /** What its cells are for comparing. */
+        final long[] keys;
+        /** What a box with it is for comparing: the number of the first noun that is the same, or NEVER_SAME. */
+        final long twin;
         /** The one kept before it with the same hash, or -1. */
         final int next;
+        int boxDepth;
+        long characters;
         int answers;
 
-        Kept(Noun noun, int boxDepth, long characters, int twin, int next) {
+        Kept(Noun noun, long[] keys, long twin, int next) {
             this.noun = noun;
-            this.boxDepth = boxDepth;
-            this.characters = characters;
+            this.keys = keys;
             this.twin = twin;
             this.next = next;
         }
@@ -305,23 +321,25 @@ public final class RankTrain {
     private static final class Store {
         /** The number of the empty list of whole numbers: a box filled with zero bits has it in it. */
         static final int EMPTY_LIST = 0;
+        /** The key of what is not even the same as itself. */
+        private static final long NEVER_SAME = Numbers.NO_NUMBER;
         private static final int HASHES = 1024;
         private static final String EMPTY_BOXES = "(<i0)";
 
-        private final Numbers numbers;
         private final ArrayList<Kept> all = new ArrayList<Kept>();
         private final int[] newest = new int[HASHES];
+        private final long[] oneKeys = new long[MOST_CELLS];
+        private final long[] otherKeys = new long[MOST_CELLS];
         private final Kept emptyList;
 
-        Store(Numbers numbers) {
-            this.numbers = numbers;
+        Store() {
             Arrays.fill(newest, -1);
             Noun none = new Noun(0);
             none.addAxis(0);
-            int hash = hashOf(none);
-            emptyList = new Kept(none, 0, charactersOf(none), EMPTY_LIST, -1);
+            emptyList = new Kept(none, new long[0], EMPTY_LIST, -1);
+            emptyList.characters = charactersOf(none);
             all.add(emptyList);
-            newest[hash] = EMPTY_LIST;
+            newest[hashOf(none, oneKeys)] = EMPTY_LIST;
         }
 
         Kept at(long number) {
@@ -333,44 +351,44 @@ public final class RankTrain {
         }
 
         int keep(Noun noun) {
-            int hash = hashOf(noun);
-            int twin = -1;
+            putKeys(noun, oneKeys);
+            int hash = hashOf(noun, oneKeys);
+            int number = all.size();
+            long twin = areSameKeys(oneKeys, 0, oneKeys, 0, noun.count) ? number : NEVER_SAME;
             for (int k = newest[hash]; k >= 0; k = at(k).next) {
                 Kept old = at(k);
                 if (isIdentical(old.noun, noun)) {
                     return k;
                 }
-                if (twin < 0 && isSame(old.noun, noun)) {
+                if (canBeSame(old.noun, noun) && areSameKeys(old.keys, 0, oneKeys, 0, noun.count)) {
                     twin = old.twin;
                 }
             }
-            int number = all.size();
-            if (twin < 0 && isSame(noun, noun)) {
-                twin = number;
-            }
-            all.add(new Kept(copyOf(noun), boxDepthOf(noun), charactersOf(noun), twin, newest[hash]));
+            Kept kept = new Kept(copyOf(noun), Arrays.copyOf(oneKeys, noun.count), twin, newest[hash]);
+            kept.boxDepth = boxDepthOf(noun);
+            kept.characters = charactersOf(noun);
+            all.add(kept);
             newest[hash] = number;
             return number;
         }
 
         private static Noun copyOf(Noun noun) {
             Noun copy = new Noun(noun.count);
-            copy.start(noun.sort);
-            copy.addAxesOf(noun, 0);
+            copy.sort = noun.sort;
+            for (int k = 0; k < noun.axes; k++) {
+                copy.addAxis(noun.lengths[k]);
+            }
             copy.copyCells(noun, 0, 0, noun.count);
             return copy;
         }
 
-        /** Nouns that are the same for comparing have the same hash, too. */
-        private int hashOf(Noun noun) {
+        private static int hashOf(Noun noun, long[] keys) {
             long mix = noun.axes;
             for (int k = 0; k < noun.axes; k++) {
                 mix = mix * 31 + noun.lengths[k];
             }
-            for (int k = 0; k < noun.count; k++) {
-                long cell = noun.cells[k];
-                long plain = noun.sort == 'i' ? cell : noun.sort == 'f' ? numbers.plain(cell) : at(cell).twin;
-                mix = mix * 1000003 + plain;
+            for (int k = 0; k < noun.count && k < keys.length; k++) {
+                mix = mix * 1000003 + keys[k];
                 mix ^= mix >>> 29;
             }
             return (int) ((mix ^ (mix >>> 17)) & (HASHES - 1));
@@ -378,106 +396,84 @@ public final class RankTrain {
 
         int boxDepthOf(Noun noun) {
             int deepest = 0;
-            if (noun.sort == 'x') {
-                for (int k = 0; k < noun.count; k++) {
-                    deepest = Math.max(deepest, 1 + at(noun.cells[k]).boxDepth);
-                }
+            for (int k = 0; k < noun.count && noun.sort == 'x'; k++) {
+                deepest = Math.max(deepest, 1 + at(noun.cells[k]).boxDepth);
             }
             return deepest;
         }
 
+        // How nouns are compared.
+
         boolean isIdentical(Noun one, Noun other) {
-            if (one.sort != other.sort || !hasSameShape(one, other)) {
-                return false;
+            boolean isIdentical = one.sort == other.sort && hasSameShape(one, other);
+            for (int k = 0; k < one.count && isIdentical; k++) {
+                isIdentical = one.cells[k] == other.cells[k];
             }
-            for (int k = 0; k < one.count; k++) {
-                if (one.cells[k] != other.cells[k]) {
-                    return false;
-                }
-            }
-            return true;
+            return isIdentical;
         }
 
         /** As "i" finds nouns the same: kinds aside, numbers as doubles. */
         boolean isSame(Noun one, Noun other) {
-            return hasSameShape(one, other) && areSameCells(one, 0, other, 0, one.count);
+            putKeys(one, oneKeys);
+            putKeys(other, otherKeys);
+            return canBeSame(one, other) && areSameKeys(oneKeys, 0, otherKeys, 0, one.count);
+        }
+
+        private static boolean canBeSame(Noun one, Noun other) {
+            return hasSameShape(one, other) && (one.count == 0 || (one.sort == 'x') == (other.sort == 'x'));
         }
 
         private static boolean hasSameShape(Noun one, Noun other) {
-            if (one.axes != other.axes) {
-                return false;
+            boolean isSame = one.axes == other.axes;
+            for (int k = 0; k < one.axes && isSame; k++) {
+                isSame = one.lengths[k] == other.lengths[k];
             }
-            for (int k = 0; k < one.axes; k++) {
-                if (one.lengths[k] != other.lengths[k]) {
-                    return false;
-                }
-            }
-            return true;
+            return isSame;
         }
 
-        boolean areSameCells(Noun one, int oneFrom, Noun other, int otherFrom, int cellCount) {
-            for (int k = 0; k < cellCount; k++) {
-                if (!isSameCell(one.sort, one.cells[oneFrom + k], other.sort, other.cells[otherFrom + k])) {
-                    return false;
-                }
+        /** Puts a key for each cell into a row: cells of numbers, or cells of boxes, with equal keys are the same. */
+        void putKeys(Noun noun, long[] row) {
+            for (int k = 0; k < noun.count && k < row.length; k++) {
+                long cell = noun.cells[k];
+                boolean isZero = noun.sort == 'f' && cell == Numbers.MINUS;
+                row[k] = noun.sort == 'x' ? at(cell).twin : noun.sort == 'i' ? Numbers.bitsOfWhole(cell) : isZero ? 0 : cell;
             }
-            return true;
         }
 
-        private boolean isSameCell(char oneSort, long one, char otherSort, long other) {
-            if (oneSort == 'x' || otherSort == 'x') {
-                int twin = at(one).twin;
-                return oneSort == otherSort && twin >= 0 && twin == at(other).twin;
+        static boolean areSameKeys(long[] one, int oneFrom, long[] other, int otherFrom, int count) {
+            boolean areSame = count == 0 || oneFrom + count <= one.length && otherFrom + count <= other.length;
+            for (int k = 0; k < count && areSame; k++) {
+                areSame = one[oneFrom + k] == other[otherFrom + k] && one[oneFrom + k] != NEVER_SAME;
             }
-            return numbers.isEqual(oneSort, one, otherSort, other);
+            return areSame;
         }
 
         // How nouns are shown.
 
         private long charactersOf(Noun noun) {
-            long length = shapeCharacters(noun);
-            if (noun.sort == 'x') {
-                if (noun.axes == 0) {
-                    return 1 + at(noun.cells[0]).characters;
-                }
-                if (noun.count == 0) {
-                    return length + EMPTY_BOXES.length();
-                }
-                for (int k = 0; k < noun.count; k++) {
-                    length += boxCharacters(noun.cells[k]) + (k > 0 ? 1 : 0);
-                }
-                return length;
+            if (noun.sort == 'x' && noun.axes == 0) {
+                return 1 + at(noun.cells[0]).characters;
             }
-            for (int k = 0; k < numbersShown(noun); k++) {
-                length += Numbers.charactersOf(noun.sort, cellShown(noun, k)) + (k > 0 ? 1 : 0);
+            long characters = shapeCharacters(noun);
+            if (noun.sort == 'x' && noun.count == 0) {
+                return characters + EMPTY_BOXES.length();
             }
-            return length;
-        }
-
-        private long boxCharacters(long content) {
-            return 3 + at(content).characters;
-        }
-
-        /** An array of numbers without cells shows one zero. */
-        private static int numbersShown(Noun noun) {
-            return Math.max(1, noun.count);
-        }
-
-        private static long cellShown(Noun noun, int index) {
-            return index < noun.count ? noun.cells[index] : 0;
+            int cells = Math.max(1, noun.count);
+            for (int k = 0; k < cells; k++) {
+                long cell = k < noun.count ? noun.cells[k] : 0;
+                characters += noun.sort == 'x' ? 3 + at(cell).characters : Numbers.charactersOf(noun.sort, cell);
+            }
+            return characters + cells - 1;
         }
 
         /** The number of characters of the shape and the "$" behind it; some nouns are shown without. */
         private static int shapeCharacters(Noun noun) {
             boolean isPlainList = noun.axes == 1 && noun.count > 1 && noun.sort != 'x';
-            if (noun.axes == 0 || isPlainList) {
-                return 0;
+            int characters = 0;
+            for (int k = 0; k < noun.axes && !isPlainList; k++) {
+                characters += noun.lengths[k] < 10 ? 2 : 3;
             }
-            int length = 0;
-            for (int k = 0; k < noun.axes; k++) {
-                length += Numbers.charactersOf('i', noun.lengths[k]) + 1;
-            }
-            return length;
+            return characters;
         }
 
         char characterAt(int number, long index) {
@@ -492,12 +488,12 @@ public final class RankTrain {
                 if (noun.sort != 'x') {
                     return numberCharacterAt(noun, rest);
                 }
-                if (noun.axes > 0 && noun.count == 0) {
+                if (noun.count == 0) {
                     return rest < EMPTY_BOXES.length() ? EMPTY_BOXES.charAt((int) rest) : ' ';
                 }
                 int box = 0;
-                while (noun.axes > 0 && box < noun.count - 1 && rest > boxCharacters(noun.cells[box])) {
-                    rest -= boxCharacters(noun.cells[box]) + 1;
+                while (box < noun.count - 1 && rest > boxCharacters(noun, box)) {
+                    rest -= boxCharacters(noun, box) + 1;
                     box++;
                 }
                 char around = aroundBox(noun, box, rest);
@@ -510,45 +506,47 @@ public final class RankTrain {
             return ' ';
         }
 
+        private long boxCharacters(Noun noun, int box) {
+            return 3 + at(noun.cells[box]).characters;
+        }
+
         /** The character at a place that is not of what is in the box, or ' '. */
         private char aroundBox(Noun noun, int box, long place) {
+            if (place == 0) {
+                return noun.axes == 0 ? '<' : '(';
+            }
             if (noun.axes == 0) {
-                return place == 0 ? '<' : ' ';
+                return ' ';
             }
-            long length = boxCharacters(noun.cells[box]);
-            if (place < 2) {
-                return place == 0 ? '(' : '<';
-            }
-            return place == length - 1 ? ')' : place >= length ? ',' : ' ';
+            long last = boxCharacters(noun, box) - 1;
+            return place == 1 ? '<' : place == last ? ')' : place > last ? ',' : ' ';
         }
 
         private static char shapeCharacterAt(Noun noun, long index) {
             long rest = index;
             for (int k = 0; k < noun.axes; k++) {
-                int length = Numbers.charactersOf('i', noun.lengths[k]);
-                if (rest < length) {
+                int characters = Numbers.charactersOf('i', noun.lengths[k]);
+                if (rest < characters) {
                     return Numbers.characterAt('i', noun.lengths[k], (int) rest);
                 }
-                if (rest == length) {
+                if (rest == characters) {
                     return k < noun.axes - 1 ? ' ' : '$';
                 }
-                rest -= length + 1;
+                rest -= characters + 1;
             }
             return ' ';
         }
 
+        /** An array of numbers without cells shows one zero. */
         private static char numberCharacterAt(Noun noun, long index) {
             long rest = index;
-            for (int k = 0; k < numbersShown(noun); k++) {
-                long cell = cellShown(noun, k);
-                int length = Numbers.charactersOf(noun.sort, cell);
-                if (rest < length) {
+            for (int k = 0; k < Math.max(1, noun.count) && rest >= 0; k++) {
+                long cell = k < noun.count ? noun.cells[k] : 0;
+                int characters = Numbers.charactersOf(noun.sort, cell);
+                if (rest < characters) {
                     return Numbers.characterAt(noun.sort, cell, (int) rest);
                 }
-                if (rest == length) {
-                    return ' ';
-                }
-                rest -= length + 1;
+                rest -= characters + 1;
             }
             return ' ';
         }
@@ -616,44 +614,19 @@ public final class RankTrain {
             }
         }
 
-        Noun sealed(char sort, long length, int word) {
-            Noun list = blank(sort);
-            list.addAxis(length);
-            seal(list, word);
-            return list;
-        }
-
         Noun atom(char sort, long cell) {
             Noun noun = blank(sort);
             noun.cells[0] = cell;
             return noun;
         }
 
-        /** Zeros in the shape of so many items of a noun. */
-        Noun zeroItems(Noun noun, long items, int word) {
-            Noun list = blank(noun.sort);
-            list.addAxis(items);
-            list.addAxesOf(noun, 1);
-            seal(list, word);
-            return list;
-        }
-
-        /** So many items of a noun from one on, as far as it has them. */
+        /** A list of items of a noun, from one on. */
         Noun someItems(Noun noun, int from, int items, int word) {
-            Noun list = zeroItems(noun, items, word);
+            Noun list = blank(noun.sort);
+            list.addItems(noun, items);
+            seal(list, word);
             list.copyCells(noun, from * noun.itemCells(), 0, items * noun.itemCells());
             return list;
-        }
-
-        Noun item(Noun noun, int index, int word) {
-            if (noun.axes == 0) {
-                return noun;
-            }
-            Noun item = blank(noun.sort);
-            item.addAxesOf(noun, 1);
-            seal(item, word);
-            item.copyCells(noun, index * item.count, 0, item.count);
-            return item;
         }
 
         int mark() {
@@ -676,13 +649,15 @@ public final class RankTrain {
 
     /** Arithmetic on single cells; doubles are kept as their bits, so that what is no number is never computed with. */
     private static final class Numbers {
-        private static final long NO_NUMBER = 0x7FF8000000000000L;
+        static final long NO_NUMBER = 0x7FF8000000000000L;
+        static final long MINUS = 0x8000000000000000L;
         private static final long INFINITE = 0x7FF0000000000000L;
-        private static final long MINUS = 0x8000000000000000L;
         private static final long MAGNITUDE = 0x7FFFFFFFFFFFFFFFL;
         private static final long FRACTION = 0x000FFFFFFFFFFFFFL;
         private static final long UNIT = 0x0010000000000000L;
         private static final long ONE = 0x3FF0000000000000L;
+        private static final int FRACTION_BITS = 52;
+        private static final int BIAS = 1023;
         private static final int POWERS = 10;
 
         /** The powers of two whose exponents are 1, 2, 4 and so on. */
@@ -698,13 +673,15 @@ public final class RankTrain {
             }
         }
 
-        long one(char sign, char ySort, long y) {
+        long ofOne(char sign, char ySort, long y) {
             if (sign == '*') {
                 sort = 'i';
-                return ySort == 'i' ? compared(y, 0) : isLess(0, y) ? 1 : isLess(y, 0) ? -1 : 0;
+                boolean isZero = ySort == 'f' ? isZero(y) || isNoNumber(y) : y == 0;
+                return isZero ? 0 : y < 0 ? -1 : 1;
             }
             if (sign == '%') {
-                return inDoubles('%', ONE, bitsOf(ySort, y));
+                sort = 'f';
+                return quotient(ONE, bitsOf(ySort, y));
             }
             if (ySort == 'i') {
                 return inRange(sign == '-' ? -y : sign == '|' ? Math.abs(y) : y);
@@ -713,14 +690,7 @@ public final class RankTrain {
             return sign == '-' ? negated(y) : sign == '|' ? y & MAGNITUDE : y;
         }
 
-        long two(char sign, char xSort, long x, char ySort, long y) {
-            if (xSort == 'i' && ySort == 'i' && sign != '%') {
-                return inWholes(sign, x, y);
-            }
-            return inDoubles(sign, bitsOf(xSort, x), bitsOf(ySort, y));
-        }
-
-        private long inWholes(char sign, long x, long y) {
+        long ofWholes(char sign, long x, long y) {
             switch (sign) {
                 case '+':
                     return inRange(x + y);
@@ -741,7 +711,7 @@ public final class RankTrain {
             }
         }
 
-        private long inDoubles(char sign, long x, long y) {
+        long ofDoubles(char sign, long x, long y) {
             sort = 'f';
             switch (sign) {
                 case '+':
@@ -776,43 +746,15 @@ public final class RankTrain {
             return isIn ? whole : bitsOfWhole(whole);
         }
 
-        private static int compared(long x, long y) {
-            return x < y ? -1 : x > y ? 1 : 0;
-        }
-
-        boolean isEqual(char xSort, long x, char ySort, long y) {
-            if (xSort == 'i' && ySort == 'i') {
-                return x == y;
-            }
-            return areEqual(bitsOf(xSort, x), bitsOf(ySort, y));
-        }
-
         /** The order of Double.compare, which puts -0 ahead of 0 and what is no number last. */
-        int order(char sameSort, long x, long y) {
-            return sameSort == 'i' ? compared(x, y) : compared(orderKey(x), orderKey(y));
+        static int order(char sameSort, long x, long y) {
+            long xKey = sameSort == 'f' && x < 0 ? x ^ MAGNITUDE : x;
+            long yKey = sameSort == 'f' && y < 0 ? y ^ MAGNITUDE : y;
+            return xKey < yKey ? -1 : xKey > yKey ? 1 : 0;
         }
 
-        private static long orderKey(long bits) {
-            return bits < 0 ? bits ^ MAGNITUDE : bits;
-        }
-
-        long bitsOf(char cellSort, long cell) {
-            return cellSort == 'f' ? cell : bitsOfWhole(cell);
-        }
-
-        /** One number for all cells that are equal as numbers, though some others have it, too. */
-        long plain(long bits) {
-            if (isZero(bits)) {
-                return 0;
-            }
-            int power = exponentOf(bits) - 1023;
-            long fraction = (bits & FRACTION) | UNIT;
-            boolean isWhole = power >= 0 && power <= 31 && (fraction & ((UNIT >>> power) - 1)) == 0;
-            if (!isWhole) {
-                return bits;
-            }
-            long size = fraction >>> (52 - power);
-            return bits < 0 ? -size : size;
+        static long bitsOf(char cellSort, long cell) {
+            return cellSort == 'i' ? bitsOfWhole(cell) : cell;
         }
 
         /** The bits as Double.doubleToLongBits tells them. */
@@ -832,21 +774,17 @@ public final class RankTrain {
             return (bits & MAGNITUDE) == 0;
         }
 
-        private static int exponentOf(long bits) {
-            return (int) ((bits >>> 52) & 2047);
-        }
-
         private static long negated(long bits) {
             return isNoNumber(bits) ? bits : bits ^ MINUS;
         }
 
         private static boolean areEqual(long x, long y) {
-            return !isNoNumber(x) && (x == y || isZero(x) && isZero(y));
+            return !isNoNumber(x) && (x == y || isZero(x | y));
         }
 
         private static boolean isLess(long x, long y) {
             boolean areNumbers = !isNoNumber(x) && !isNoNumber(y);
-            return areNumbers && !areEqual(x, y) && orderKey(x) < orderKey(y);
+            return areNumbers && !isZero(x | y) && order('f', x, y) < 0;
         }
 
         private long sum(long x, long y) {
@@ -886,8 +824,8 @@ public final class RankTrain {
 
         /** As Math.floor: the fraction's bits are cut off, one unit further from zero below it. */
         private static long floor(long bits) {
-            int power = exponentOf(bits) - 1023;
-            if (power >= 52 || isZero(bits)) {
+            int power = (int) ((bits & MAGNITUDE) >>> FRACTION_BITS) - BIAS;
+            if (power >= FRACTION_BITS || isZero(bits)) {
                 return bits;
             }
             if (power < 0) {
@@ -900,24 +838,28 @@ public final class RankTrain {
             return (bits < 0 ? bits + behindPoint : bits) & ~behindPoint;
         }
 
-        private long bitsOfWhole(long whole) {
-            long size = Math.abs(whole);
-            if (size >= 2 * UNIT) {
-                return bitsOfDouble((double) whole, 0);
-            }
-            if (size == 0) {
+        /** The bits of the double that is made from a long, rounded to the even one of two that are as near. */
+        static long bitsOfWhole(long whole) {
+            if (whole == 0) {
                 return 0;
             }
+            long size = Math.abs(whole);
             int power = 63 - Long.numberOfLeadingZeros(size);
-            long bits = ((long) (power + 1023) << 52) | ((size << (52 - power)) & FRACTION);
+            long kept = power <= FRACTION_BITS ? size << (FRACTION_BITS - power) : size >>> (power - FRACTION_BITS);
+            if (power > FRACTION_BITS) {
+                long half = 1L << (power - FRACTION_BITS - 1);
+                long lost = size & (2 * half - 1);
+                kept += lost > half || lost == half && (kept & 1) == 1 ? 1 : 0;
+            }
+            long bits = ((long) (power + BIAS) << FRACTION_BITS) + (kept - UNIT);
             return whole < 0 ? bits | MINUS : bits;
         }
 
         /** The double of bits that are those of a finite one. */
         private double valueOf(long bits) {
-            int exponent = exponentOf(bits);
+            int exponent = (int) ((bits & MAGNITUDE) >>> FRACTION_BITS);
             double size = (double) (exponent == 0 ? bits & FRACTION : (bits & FRACTION) | UNIT);
-            int power = Math.max(1, exponent) - 1075;
+            int power = Math.max(1, exponent) - BIAS - FRACTION_BITS;
             if (power < -1000) {
                 size = size / 18446744073709551616.0;
                 power += 64;
@@ -957,11 +899,11 @@ public final class RankTrain {
                 }
             }
             long unit = (long) size;
-            int exponent = power + 1075;
+            int exponent = power + BIAS + FRACTION_BITS;
             if (exponent < 1) {
                 return minus | (unit >>> Math.min(63, 1 - exponent));
             }
-            return minus | ((long) exponent << 52) | (unit & FRACTION);
+            return minus | ((long) exponent << FRACTION_BITS) | (unit & FRACTION);
         }
 
         // How numbers are shown.
@@ -1127,34 +1069,26 @@ public final class RankTrain {
             frameCells = length;
         }
 
-        Noun xCell(Bench bench, int index) {
-            return x == null ? null : cellOf(bench, x, xRank, xStep > 0 ? index / xStep : 0);
-        }
-
-        Noun yCell(Bench bench, int index) {
-            return cellOf(bench, y, yRank, yStep > 0 ? index / yStep : 0);
-        }
-
-        private Noun cellOf(Bench bench, Noun whole, int rank, int index) {
-            if (rank >= whole.axes) {
+        /** The cell of x or y that goes with an index in the frame; null if there is no x. */
+        Noun cellAt(Bench bench, boolean isX, int index) {
+            Noun whole = isX ? x : y;
+            int rank = isX ? xRank : yRank;
+            int step = isX ? xStep : yStep;
+            if (whole == null || rank >= whole.axes || step < 1) {
                 return whole;
             }
-            Noun cell = zeroCell(bench, whole, rank);
-            cell.copyCells(whole, index * cell.count, 0, cell.count);
+            Noun cell = zeroCell(bench, isX);
+            cell.copyCells(whole, index / step * cell.count, 0, cell.count);
             return cell;
         }
 
-        Noun zeroXCell(Bench bench) {
-            return x == null ? null : zeroCell(bench, x, xRank);
-        }
-
-        Noun zeroYCell(Bench bench) {
-            return zeroCell(bench, y, yRank);
-        }
-
-        private Noun zeroCell(Bench bench, Noun whole, int rank) {
+        Noun zeroCell(Bench bench, boolean isX) {
+            Noun whole = isX ? x : y;
+            if (whole == null) {
+                return null;
+            }
             Noun cell = bench.blank(whole.sort);
-            cell.addAxesOf(whole, whole.axes - rank);
+            cell.addAxesOf(whole, whole.axes - (isX ? xRank : yRank));
             bench.seal(cell, word);
             return cell;
         }
@@ -1182,7 +1116,7 @@ public final class RankTrain {
         }
 
         /** The results side by side in the shape of the frame, filled up to the same shape. */
-        Noun together(Bench bench, Numbers numbers) {
+        Noun together(Bench bench) {
             bench.demand(resultSorts <= BOXES, 'd', word);
             Noun all = bench.blank(resultSorts == BOXES ? 'x' : resultSorts >= DOUBLES ? 'f' : 'i');
             for (int k = 0; k < frameAxes; k++) {
@@ -1196,12 +1130,12 @@ public final class RankTrain {
             }
             bench.seal(all, word);
             for (int k = 0; all.count > 0 && k < Math.min(resultCount, MOST_CELLS); k++) {
-                place(results[k], all, k * blockCells, numbers);
+                place(results[k], all, k * blockCells);
             }
             return all;
         }
 
-        private void place(Noun result, Noun all, int from, Numbers numbers) {
+        private void place(Noun result, Noun all, int from) {
             for (int cell = 0; cell < result.count; cell++) {
                 int rest = cell;
                 int to = from;
@@ -1214,7 +1148,7 @@ public final class RankTrain {
                 }
                 long content = result.cells[cell];
                 if (to < all.count) {
-                    all.cells[to] = all.sort == 'f' ? numbers.bitsOf(result.sort, content) : content;
+                    all.cells[to] = all.sort == 'f' ? Numbers.bitsOf(result.sort, content) : content;
                 }
             }
         }
@@ -1229,6 +1163,8 @@ public final class RankTrain {
         private final Store store;
         private final Numbers numbers;
         private final int[] order = new int[MOST_CELLS];
+        private final long[] xKeys = new long[MOST_CELLS];
+        private final long[] yKeys = new long[MOST_CELLS];
 
         Signs(Bench bench, Store store, Numbers numbers) {
             this.bench = bench;
@@ -1254,32 +1190,23 @@ public final class RankTrain {
             return hasX ? ZERO_RANKS_OF_TWO.indexOf(sign) >= 0 : sign != '>' && ZERO_RANKS_OF_ONE.indexOf(sign) >= 0;
         }
 
-        /** One application; x is null if there is one argument. */
-        Noun once(char sign, int word, Noun x, Noun y) {
-            if (isNumeric(sign, x != null)) {
-                return numericCells(sign, word, x, y);
-            }
-            bench.countApplication(word);
-            Noun result = x == null ? one(sign, word, y) : two(sign, word, x, y);
-            bench.paid += (x == null ? 0 : x.count) + y.count + result.count;
-            return result;
-        }
-
-        /** An application to each cell, of arguments that have cells and whose frames fit. */
+        /** An application to each cell, of arguments that have cells and whose frames fit; x is null if there is no x. */
         Noun numericCells(char sign, int word, Noun x, Noun y) {
             Noun longer = x != null && x.axes > y.axes ? x : y;
             Noun result = bench.blank('i');
             result.addAxesOf(longer, 0);
-            bench.seal(result, word);
             boolean isWrong = y.sort == 'x' || (x == null ? sign == '=' : x.sort == 'x');
+            boolean areWholes = x != null && x.sort == 'i' && y.sort == 'i' && sign != '%';
             int xStep = x == null || x.count == 0 ? 1 : Math.max(1, result.count / x.count);
             int yStep = y.count == 0 ? 1 : Math.max(1, result.count / y.count);
             for (int k = 0; k < result.count; k++) {
                 bench.countApplication(word);
                 bench.demand(!isWrong, 'd', word);
                 long yCell = y.cells[k / yStep];
-                long cell = x == null ? numbers.one(sign, y.sort, yCell)
-                    : numbers.two(sign, x.sort, x.cells[k / xStep], y.sort, yCell);
+                long xCell = x == null ? 0 : x.cells[k / xStep];
+                long cell = x == null ? numbers.ofOne(sign, y.sort, yCell)
+                    : areWholes ? numbers.ofWholes(sign, xCell, yCell)
+                    : numbers.ofDoubles(sign, Numbers.bitsOf(x.sort, xCell), Numbers.bitsOf(y.sort, yCell));
                 putNumber(result, k, numbers.sort, cell);
                 bench.paid += x == null ? 2 : 3;
             }
@@ -1287,77 +1214,104 @@ public final class RankTrain {
         }
 
         /** One double makes all numbers of the result doubles. */
-        private void putNumber(Noun result, int index, char sort, long cell) {
+        private static void putNumber(Noun result, int index, char sort, long cell) {
             if (sort == 'f' && result.sort == 'i') {
                 result.sort = 'f';
                 for (int k = 0; k < index; k++) {
-                    result.cells[k] = numbers.bitsOf('i', result.cells[k]);
+                    result.cells[k] = Numbers.bitsOfWhole(result.cells[k]);
                 }
             }
-            result.cells[index] = result.sort == 'f' ? numbers.bitsOf(sort, cell) : cell;
+            result.cells[index] = result.sort == 'f' ? Numbers.bitsOf(sort, cell) : cell;
         }
 
-        private Noun one(char sign, int word, Noun y) {
+        /** One application of a verb to one argument. */
+        Noun ofOne(char sign, int word, Noun y) {
+            bench.countApplication(word);
+            Noun result = y;
             switch (sign) {
                 case '<':
-                    return boxed(y, word);
+                    bench.demand(store.boxDepthOf(y) < MOST_BOX_DEPTH, 'm', word);
+                    result = bench.atom('x', store.keep(y));
+                    break;
                 case '>':
-                    return y.sort == 'x' ? store.inBox(y.cells[0]) : y;
+                    result = y.sort == 'x' ? store.inBox(y.cells[0]) : y;
+                    break;
                 case '#':
-                    return bench.atom('i', y.items());
+                    result = bench.atom('i', y.items());
+                    break;
                 case '$':
-                    return lengthsOf(y, word);
+                    result = lengthsOf(y);
+                    break;
                 case ',':
-                    return ravelled(y, word);
+                    result = ravelled(y);
+                    break;
                 case 'i':
-                    return counted(y, word);
+                    result = counted(y, word);
+                    break;
                 case 'g':
-                    return graded(y, word);
+                    result = graded(y, word);
+                    break;
                 case 'r':
-                    return reversed(y, word);
+                    result = reversed(y, word);
+                    break;
                 case 't':
-                    return transposed(y, word);
+                    result = transposed(y);
+                    break;
                 case 'n':
-                    return different(y, word);
+                    result = different(y, word);
+                    break;
                 case 'h':
-                    return y.items() > 0 ? bench.item(y, 0, word) : zeroItem(y, word);
+                    result = firstItem(y, word);
+                    break;
                 case 'e':
-                    return without(y, 1, word);
-                case '[':
-                case ']':
-                    return y;
+                    result = without(y, 1, word);
+                    break;
                 default:
-                    bench.demand(false, 'd', word);
-                    return y;
+                    bench.demand(sign == '[' || sign == ']', 'd', word);
+                    break;
             }
+            bench.paid += y.count + result.count;
+            return result;
         }
 
-        private Noun two(char sign, int word, Noun x, Noun y) {
+        /** One application of a verb to two arguments. */
+        Noun ofTwo(char sign, int word, Noun x, Noun y) {
+            bench.countApplication(word);
+            Noun result = y;
             switch (sign) {
                 case '#':
-                    return copied(x, y, word);
+                    result = copied(x, y, word);
+                    break;
                 case '$':
-                    return shaped(x, y, word);
+                    result = shaped(x, y, word);
+                    break;
                 case ',':
-                    return joined(x, y, word);
+                    result = joined(x, y, word);
+                    break;
                 case '{':
-                    return taken(x, y, word);
+                    result = taken(x, y, word);
+                    break;
                 case 'i':
-                    return found(x, y, word);
+                    result = found(x, y, word);
+                    break;
                 case 'r':
-                    return turned(y, oneWhole(x, word), word);
+                    result = turned(y, oneWhole(x, word), word);
+                    break;
                 case 'h':
-                    return first(y, oneWhole(x, word), word);
+                    result = first(y, oneWhole(x, word), word);
+                    break;
                 case 'e':
-                    return without(y, oneWhole(x, word), word);
+                    result = without(y, oneWhole(x, word), word);
+                    break;
                 case '[':
-                    return x;
-                case ']':
-                    return y;
+                    result = x;
+                    break;
                 default:
-                    bench.demand(false, 'd', word);
-                    return y;
+                    bench.demand(sign == ']', 'd', word);
+                    break;
             }
+            bench.paid += x.count + y.count + result.count;
+            return result;
         }
 
         /** An argument that is to be one whole number. */
@@ -1374,38 +1328,27 @@ public final class RankTrain {
             }
         }
 
-        private Noun boxed(Noun y, int word) {
-            bench.demand(store.boxDepthOf(y) < MOST_BOX_DEPTH, 'm', word);
-            return bench.atom('x', store.keep(y));
-        }
-
-        private Noun lengthsOf(Noun y, int word) {
-            Noun result = bench.sealed('i', y.axes, word);
+        private Noun lengthsOf(Noun y) {
+            Noun result = bench.blank('i');
+            result.addAxis(y.axes);
             for (int k = 0; k < y.axes; k++) {
                 result.cells[k] = y.lengths[k];
             }
             return result;
         }
 
-        private Noun ravelled(Noun y, int word) {
-            Noun result = bench.sealed(y.sort, y.count, word);
+        private Noun ravelled(Noun y) {
+            Noun result = bench.blank(y.sort);
+            result.addAxis(y.count);
             result.copyCells(y, 0, 0, y.count);
             return result;
         }
 
-        /** Zeros in the shape that the cells of a noun tell. */
-        private Noun inShape(Noun shape, char sort, int word) {
-            demandCounts(shape, word);
-            Noun result = bench.blank(sort);
-            for (int k = 0; k < shape.count; k++) {
-                result.addAxis(shape.cells[k]);
-            }
-            bench.seal(result, word);
-            return result;
-        }
-
         private Noun counted(Noun y, int word) {
-            Noun result = inShape(y, 'i', word);
+            demandCounts(y, word);
+            Noun result = bench.blank('i');
+            result.addAxesToldBy(y);
+            bench.seal(result, word);
             for (int k = 0; k < result.count; k++) {
                 result.cells[k] = k;
             }
@@ -1413,7 +1356,10 @@ public final class RankTrain {
         }
 
         private Noun shaped(Noun x, Noun y, int word) {
-            Noun result = inShape(x, y.sort, word);
+            demandCounts(x, word);
+            Noun result = bench.blank(y.sort);
+            result.addAxesToldBy(x);
+            bench.seal(result, word);
             bench.demand(y.count > 0 || result.count == 0, 'l', word);
             for (int k = 0; k < result.count && y.count > 0; k++) {
                 result.cells[k] = y.cells[k % y.count];
@@ -1424,7 +1370,8 @@ public final class RankTrain {
         private Noun graded(Noun y, int word) {
             bench.demand(y.sort != 'x', 'd', word);
             int items = y.items();
-            Noun result = bench.sealed('i', items, word);
+            Noun result = bench.blank('i');
+            result.addAxis(items);
             for (int k = 0; k < items; k++) {
                 int to = k;
                 while (to > 0 && orderOfItems(y, order[to - 1], k) > 0) {
@@ -1439,11 +1386,11 @@ public final class RankTrain {
             return result;
         }
 
-        private int orderOfItems(Noun y, int one, int other) {
+        private static int orderOfItems(Noun y, int one, int other) {
             int cells = y.itemCells();
             int found = 0;
             for (int k = 0; k < cells && found == 0 && y.count > 0; k++) {
-                found = numbers.order(y.sort, y.cells[one * cells + k], y.cells[other * cells + k]);
+                found = Numbers.order(y.sort, y.cells[one * cells + k], y.cells[other * cells + k]);
             }
             return found;
         }
@@ -1451,7 +1398,9 @@ public final class RankTrain {
         private Noun reversed(Noun y, int word) {
             int items = y.items();
             int cells = y.itemCells();
-            Noun result = bench.zeroItems(y, items, word);
+            Noun result = bench.blank(y.sort);
+            result.addItems(y, items);
+            bench.seal(result, word);
             for (int k = 0; k < items; k++) {
                 result.copyCells(y, (items - 1 - k) * cells, k * cells, cells);
             }
@@ -1461,19 +1410,20 @@ public final class RankTrain {
         private Noun turned(Noun y, long places, int word) {
             int items = y.items();
             int cells = y.itemCells();
-            Noun result = bench.zeroItems(y, items, word);
+            Noun result = bench.blank(y.sort);
+            result.addItems(y, items);
+            bench.seal(result, word);
             int ahead = items == 0 ? 0 : (int) Math.floorMod(places, (long) items);
             result.copyCells(y, ahead * cells, 0, (items - ahead) * cells);
             result.copyCells(y, 0, (items - ahead) * cells, ahead * cells);
             return result;
         }
 
-        private Noun transposed(Noun y, int word) {
+        private Noun transposed(Noun y) {
             Noun result = bench.blank(y.sort);
             for (int k = y.axes - 1; k >= 0; k--) {
                 result.addAxis(y.lengths[k]);
             }
-            bench.seal(result, word);
             for (int cell = 0; cell < y.count; cell++) {
                 int rest = cell;
                 int to = 0;
@@ -1489,31 +1439,34 @@ public final class RankTrain {
 
         private Noun different(Noun y, int word) {
             int items = y.items();
-            int cells = y.itemCells();
+            int cells = y.count == 0 ? 0 : y.itemCells();
             int kept = 0;
+            store.putKeys(y, yKeys);
             for (int k = 0; k < items; k++) {
                 boolean isNew = true;
                 for (int before = 0; before < kept && isNew; before++) {
-                    isNew = !areSameItems(y, order[before], k, cells);
+                    isNew = !Store.areSameKeys(yKeys, order[before] * cells, yKeys, k * cells, cells);
                 }
                 if (isNew) {
                     order[kept] = k;
                     kept++;
                 }
             }
-            Noun result = bench.zeroItems(y, kept, word);
+            Noun result = bench.blank(y.sort);
+            result.addItems(y, kept);
+            bench.seal(result, word);
             for (int k = 0; k < kept; k++) {
                 result.copyCells(y, order[k] * cells, k * cells, cells);
             }
             return result;
         }
 
-        private boolean areSameItems(Noun y, int one, int other, int cells) {
-            return y.count == 0 || store.areSameCells(y, one * cells, y, other * cells, cells);
-        }
-
-        private Noun zeroItem(Noun y, int word) {
+        private Noun firstItem(Noun y, int word) {
             Noun item = bench.blank(y.sort);
+            if (y.items() > 0) {
+                item.takeItem(y, 0);
+                return item;
+            }
             item.addAxesOf(y, 1);
             bench.seal(item, word);
             return item;
@@ -1523,7 +1476,9 @@ public final class RankTrain {
         private Noun first(Noun y, long number, int word) {
             int cells = y.itemCells();
             int items = y.items();
-            Noun result = bench.zeroItems(y, Math.abs(number), word);
+            Noun result = bench.blank(y.sort);
+            result.addItems(y, Math.abs(number));
+            bench.seal(result, word);
             int wanted = (int) Math.min(Math.abs(number), MOST_CELLS);
             int some = Math.min(wanted, items);
             int from = number < 0 ? items - some : 0;
@@ -1536,7 +1491,12 @@ public final class RankTrain {
         private Noun without(Noun y, long number, int word) {
             int items = y.items();
             int dropped = (int) Math.min(Math.abs(number), items);
-            return bench.someItems(y, number < 0 ? 0 : dropped, items - dropped, word);
+            int cells = y.itemCells();
+            Noun result = bench.blank(y.sort);
+            result.addItems(y, items - dropped);
+            bench.seal(result, word);
+            result.copyCells(y, number < 0 ? 0 : dropped * cells, 0, (items - dropped) * cells);
+            return result;
         }
 
         private Noun copied(Noun x, Noun y, int word) {
@@ -1548,7 +1508,9 @@ public final class RankTrain {
             for (int k = 0; k < items; k++) {
                 total += x.cells[x.axes == 0 ? 0 : k];
             }
-            Noun result = bench.zeroItems(y, total, word);
+            Noun result = bench.blank(y.sort);
+            result.addItems(y, total);
+            bench.seal(result, word);
             int to = 0;
             for (int k = 0; k < items; k++) {
                 long times = x.cells[x.axes == 0 ? 0 : k];
@@ -1594,10 +1556,11 @@ public final class RankTrain {
         }
 
         /** A noun without axes is repeated as often as it must be. */
-        private void appendCells(Noun result, int from, Noun noun, int cells) {
+        private static void appendCells(Noun result, int from, Noun noun, int cells) {
             for (int k = 0; k < cells && from + k < result.count; k++) {
                 long cell = noun.cells[noun.axes == 0 ? 0 : k];
-                result.cells[from + k] = result.sort == 'f' ? numbers.bitsOf(noun.sort, cell) : cell;
+                boolean isChanged = result.sort == 'f' && noun.sort == 'i';
+                result.cells[from + k] = isChanged ? Numbers.bitsOfWhole(cell) : cell;
             }
         }
 
@@ -1606,7 +1569,9 @@ public final class RankTrain {
             int items = y.items();
             long index = x.cells[0] < 0 ? x.cells[0] + items : x.cells[0];
             bench.demand(index >= 0 && index < items, 'x', word);
-            return bench.item(y, (int) index, word);
+            Noun result = bench.blank(y.sort);
+            result.takeItem(y, (int) index);
+            return result;
         }
 
         private Noun found(Noun x, Noun y, int word) {
@@ -1617,22 +1582,23 @@ public final class RankTrain {
                 result.addAxis(y.lengths[k]);
             }
             bench.seal(result, word);
-            boolean canBeSame = y.axes >= itemRank;
+            int cells = x.itemCells();
+            boolean canBeSame = y.axes >= itemRank && (cells == 0 || (x.sort == 'x') == (y.sort == 'x'));
             for (int k = 0; k < itemRank && canBeSame; k++) {
                 canBeSame = x.lengths[k + 1] == y.lengths[frameAxes + k];
             }
-            int cells = x.itemCells();
+            store.putKeys(x, xKeys);
+            store.putKeys(y, yKeys);
             for (int k = 0; k < result.count; k++) {
-                result.cells[k] = canBeSame ? placeOf(x, y, k * cells, cells) : x.items();
+                result.cells[k] = canBeSame ? placeOf(x.items(), k * cells, cells) : x.items();
             }
             return result;
         }
 
-        /** The first item of x that is the same as the cells of y from one on. */
-        private int placeOf(Noun x, Noun y, int from, int cells) {
-            int items = x.items();
+        /** The first of so many items of x that is the same as the cells of y from one on. */
+        private int placeOf(int items, int from, int cells) {
             int place = 0;
-            while (place < items && !store.areSameCells(x, place * cells, y, from, cells)) {
+            while (place < items && !Store.areSameKeys(xKeys, place * cells, yKeys, from, cells)) {
                 place++;
             }
             return place;
@@ -1649,7 +1615,6 @@ public final class RankTrain {
 
         private final Bench bench;
         private final Store store;
-        private final Numbers numbers;
         private final Signs signs;
         private final Level[] levels = new Level[MOST_DEPTH + 1];
         private final Verb[] nameVerbs = new Verb[NAMES];
@@ -1659,7 +1624,6 @@ public final class RankTrain {
         Machine(Bench bench, Store store, Numbers numbers) {
             this.bench = bench;
             this.store = store;
-            this.numbers = numbers;
             signs = new Signs(bench, store, numbers);
             for (int k = 0; k < levels.length; k++) {
                 levels[k] = new Level();
@@ -1812,44 +1776,45 @@ public final class RankTrain {
 
         /** Applies what the level tells to each cell. */
         private Noun overCells(Level level, int depth) {
-            level.dropResults();
             if (level.frameCells == 0) {
-                Noun zeroX = level.zeroXCell(bench);
-                return overNoCells(level, zeroX, level.zeroYCell(bench), depth);
+                Noun zeroX = level.zeroCell(bench, true);
+                return overNoCells(level, zeroX, level.zeroCell(bench, false), depth);
             }
+            level.dropResults();
             for (int k = 0; k < level.frameCells; k++) {
                 int mark = bench.mark();
-                Noun x = level.xCell(bench, k);
-                Noun y = level.yCell(bench, k);
-                Noun result = level.verb == null ? signs.once(level.sign, level.word, x, y)
-                    : apply(level.verb, level.isBack, x, y, depth + 1);
+                Noun x = level.cellAt(bench, true, k);
+                Noun result = once(level, x, level.cellAt(bench, false, k), depth);
                 if (!level.hasFrame()) {
                     return result;
                 }
                 bench.release(mark, result);
                 level.addResult(result);
             }
-            return level.together(bench, numbers);
+            return level.together(bench);
+        }
+
+        private Noun once(Level level, Noun x, Noun y, int depth) {
+            if (level.verb != null) {
+                return apply(level.verb, level.isBack, x, y, depth + 1);
+            }
+            if (Signs.isNumeric(level.sign, x != null)) {
+                return signs.numericCells(level.sign, level.word, x, y);
+            }
+            return x == null ? signs.ofOne(level.sign, level.word, y) : signs.ofTwo(level.sign, level.word, x, y);
         }
 
         /** For a frame without cells, arguments of zeros tell the shape and the kind. */
         private Noun overNoCells(Level level, Noun x, Noun y, int depth) {
+            boolean isWrong = false;
             level.dropResults();
-            if (!isTried(level, x, y, depth)) {
-                bench.demand(bench.wrong != 'm', 'm', bench.wrongWord);
-                level.dropResults();
-            }
-            return level.together(bench, numbers);
-        }
-
-        private boolean isTried(Level level, Noun x, Noun y, int depth) {
             try {
-                level.addResult(level.verb == null ? signs.once(level.sign, level.word, x, y)
-                    : apply(level.verb, level.isBack, x, y, depth + 1));
-                return true;
+                level.addResult(once(level, x, y, depth));
             } catch (IllegalStateException stopped) {
-                return false;
+                isWrong = true;
             }
+            bench.demand(!isWrong || bench.wrong != 'm', 'm', bench.wrongWord);
+            return level.together(bench);
         }
 
         private Noun inserted(Verb verb, Noun y, int depth) {
@@ -1861,9 +1826,11 @@ public final class RankTrain {
                 return insertedInNone(verb, y);
             }
             int mark = bench.mark();
-            Noun result = bench.item(y, items - 1, verb.word);
+            Noun result = bench.blank(y.sort);
+            result.takeItem(y, items - 1);
             for (int k = items - 2; k >= 0; k--) {
-                Noun item = bench.item(y, k, verb.word);
+                Noun item = bench.blank(y.sort);
+                item.takeItem(y, k);
                 result = apply(verb.left, false, item, result, depth + 1);
                 bench.release(mark, result);
             }
@@ -1925,7 +1892,10 @@ public final class RankTrain {
             level.applyVerb(verb.left, false, verb.word);
             level.frameOf(lists);
             if (lists == 0) {
-                return overNoCells(level, null, bench.zeroItems(y, width, verb.word), depth);
+                Noun none = bench.blank(y.sort);
+                none.addItems(y, width);
+                bench.seal(none, verb.word);
+                return overNoCells(level, null, none, depth);
             }
             level.dropResults();
             for (int k = 0; k < lists; k++) {
@@ -1935,7 +1905,7 @@ public final class RankTrain {
                 bench.release(mark, result);
                 level.addResult(result);
             }
-            return level.together(bench, numbers);
+            return level.together(bench);
         }
 
         private long widthOf(Noun x, int word) {
@@ -2201,7 +2171,7 @@ public final class RankTrain {
         }
 
         /** The noun that a word of numbers is. */
-        Noun nounOf(int word, Bench bench, Numbers numbers) {
+        Noun nounOf(int word, Bench bench) {
             int start = word >= 0 && word < rightWords ? starts[word] : 0;
             int end = word >= 0 && word < rightWords ? ends[word] : 0;
             int count = 0;
@@ -2218,7 +2188,7 @@ public final class RankTrain {
             int place = start;
             for (int k = 0; k < noun.count; k++) {
                 long value = valueAt(place);
-                noun.cells[k] = sort == 'f' && at(place) != '#' ? numbers.bitsOf('i', value) : value;
+                noun.cells[k] = sort == 'f' && at(place) != '#' ? Numbers.bitsOfWhole(value) : value;
                 place = nextNumber(place);
             }
             return noun;
@@ -2228,13 +2198,15 @@ public final class RankTrain {
     /** Puts the words of a line together on a stack. */
     private static final class Sentence {
         private static final char MARK = 'm';
+        /** The mark is moved behind the word 0. */
+        private static final int MARK_WORD = -1;
         private static final int STACK_ROOM = LINE_ROOM + 1;
-        private static final int MOST_RANK = 1000;
+        private static final int MOST_STEPS = 1000;
+        private static final int FAR_RANK = 1000;
 
         private final Line line;
         private final Bench bench;
         private final Store store;
-        private final Numbers numbers;
         private final Machine machine;
         /** The stack; its first thing is at the end. */
         private final char[] sorts = new char[STACK_ROOM];
@@ -2243,11 +2215,10 @@ public final class RankTrain {
         private final int[] words = new int[STACK_ROOM];
         private int things;
 
-        Sentence(Line line, Bench bench, Store store, Numbers numbers, Machine machine) {
+        Sentence(Line line, Bench bench, Store store, Machine machine) {
             this.line = line;
             this.bench = bench;
             this.store = store;
-            this.numbers = numbers;
             this.machine = machine;
         }
 
@@ -2255,17 +2226,23 @@ public final class RankTrain {
         char answer() {
             line.cut();
             bench.demand(!line.isWrong, 's', line.rightWords);
-            things = 0;
-            for (int word = line.rightWords - 1; word >= 0; word--) {
-                putTogether();
-                move(word);
-            }
             if (line.rightWords == 0) {
                 return '-';
             }
-            putTogether();
-            push(MARK, null, null, 0);
-            putTogether();
+            things = 0;
+            int word = line.rightWords - 1;
+            boolean isReady = false;
+            for (int k = 0; k < MOST_STEPS && !isReady; k++) {
+                int pattern = pattern();
+                if (pattern > 0) {
+                    perform(pattern);
+                } else if (word >= MARK_WORD) {
+                    move(word);
+                    word--;
+                } else {
+                    isReady = true;
+                }
+            }
             bench.demand(things == 2 && isValue(1), 's', 0);
             return sortAt(1);
         }
@@ -2275,12 +2252,12 @@ public final class RankTrain {
         }
 
         private void move(int word) {
-            char sort = line.sorts[word];
+            char sort = word == MARK_WORD ? MARK : line.sorts[word];
             char sign = line.signOf(word);
             Noun noun = null;
             Verb verb = null;
             if (sort == 'n') {
-                noun = line.nounOf(word, bench, numbers);
+                noun = line.nounOf(word, bench);
             } else if (sort == 'v') {
                 verb = new Verb(Verb.SIGN, sign, word);
             } else if (sort == 'w' && sortAt(0) != ':') {
@@ -2320,15 +2297,6 @@ public final class RankTrain {
 
         private boolean isValue(int place) {
             return sortAt(place) == 'n' || sortAt(place) == 'v';
-        }
-
-        /** Each pattern that is done leaves fewer things on the stack. */
-        private void putTogether() {
-            int pattern = pattern();
-            for (int k = 0; k < STACK_ROOM && pattern > 0; k++) {
-                perform(pattern);
-                pattern = pattern();
-            }
         }
 
         /** The number of the first pattern that fits, or 0. */
@@ -2439,7 +2407,6 @@ public final class RankTrain {
             made.right = right;
             bench.demand(left != null, 'd', word);
             if (sign == '"' || sign == '^') {
-                bench.demand(right == null && nounAt(3).sort == 'i', 'd', word);
                 readNumbers(made, nounAt(3));
             } else {
                 bench.demand(right != null, 'd', word);
@@ -2456,24 +2423,29 @@ public final class RankTrain {
             return made;
         }
 
-        private void readNumbers(Verb made, Noun numbersOf) {
+        /** Reads the noun of u"n or u^n, which is null if there is a verb in its place. */
+        private void readNumbers(Verb made, Noun noun) {
+            bench.demand(noun != null && noun.sort == 'i', 'd', made.word);
+            if (noun == null) {
+                return;
+            }
             if (made.form == Verb.POWER) {
-                bench.demand(numbersOf.axes == 0, 'r', made.word);
-                long times = numbersOf.cells[0];
+                bench.demand(noun.axes == 0, 'r', made.word);
+                long times = noun.cells[0];
                 bench.demand(times >= -9 && times <= 10, 'd', made.word);
                 made.times = (int) times;
                 return;
             }
-            int count = numbersOf.count;
-            bench.demand(numbersOf.axes <= 1, 'r', made.word);
+            int count = noun.count;
+            bench.demand(noun.axes <= 1, 'r', made.word);
             bench.demand(count >= 1 && count <= 3, 'l', made.word);
-            made.rankOfLeft = rankOf(numbersOf.cells[count == 3 ? 1 : 0]);
-            made.rankOfRight = rankOf(numbersOf.cells[count - 1]);
-            made.rankOfOne = count == 3 ? rankOf(numbersOf.cells[0]) : made.rankOfRight;
+            made.rankOfLeft = rankOf(noun.cells[count == 3 ? 1 : 0]);
+            made.rankOfRight = rankOf(noun.cells[count - 1]);
+            made.rankOfOne = count == 3 ? rankOf(noun.cells[0]) : made.rankOfRight;
         }
 
         private static int rankOf(long number) {
-            return (int) Math.max(-MOST_RANK, Math.min(MOST_RANK, number));
+            return (int) Math.max(-FAR_RANK, Math.min(FAR_RANK, number));
         }
 
         private Verb fork() {

@@ -334,7 +334,15 @@ public final class PlainComparison {
 
             abstract Arr act(Arr x, Arr y, int depth);
 
-            Verb inverse() {
+            /** The inverse, that would be applied so deep; a chain of names that leads back to itself has no end. */
+            final Verb inverse(int depth, int names) {
+                if (depth > 40 && !(this instanceof Name) || names > 100) {
+                    throw new Stop('m', this instanceof Bond ? ((Bond) this).inverseWord() : word);
+                }
+                return back(depth, names);
+            }
+
+            Verb back(int depth, int names) {
                 throw new Stop('n', word);
             }
 
@@ -696,14 +704,14 @@ public final class PlainComparison {
             }
 
             @Override
-            Verb inverse() {
+            Verb back(int depth, int names) {
                 if ("+-%rt[]".indexOf(sign) >= 0) {
                     return this;
                 }
                 if (sign == '<' || sign == '>') {
                     return new Sign(sign == '<' ? '>' : '<', word);
                 }
-                return super.inverse();
+                return super.back(depth, names);
             }
         }
 
@@ -781,8 +789,8 @@ public final class PlainComparison {
             }
 
             @Override
-            Verb inverse() {
-                return has().inverse();
+            Verb back(int depth, int names) {
+                return has().inverse(depth, names + 1);
             }
         }
 
@@ -928,9 +936,9 @@ public final class PlainComparison {
             }
 
             @Override
-            Verb inverse() {
-                Verb first = u.inverse();
-                return new Atop(v.inverse(), first, word);
+            Verb back(int depth, int names) {
+                Verb first = u.inverse(depth + 1, 0);
+                return new Atop(v.inverse(depth + 1, 0), first, word);
             }
         }
 
@@ -952,9 +960,9 @@ public final class PlainComparison {
             }
 
             @Override
-            Verb inverse() {
-                Verb first = u.inverse();
-                return new Atop(v.inverse(), first, word);
+            Verb back(int depth, int names) {
+                Verb first = u.inverse(depth + 1, 0);
+                return new Atop(v.inverse(depth + 1, 0), first, word);
             }
         }
 
@@ -978,11 +986,16 @@ public final class PlainComparison {
                 return isNounLeft ? v.at(n, y, depth + 1) : v.at(y, n, depth + 1);
             }
 
+            int inverseWord() {
+                boolean isOwn = isNounLeft && v instanceof Sign && "-%".indexOf(((Sign) v).sign) >= 0;
+                return isOwn ? word : v.word;
+            }
+
             @Override
-            Verb inverse() {
+            Verb back(int depth, int names) {
                 char sign = v instanceof Sign ? ((Sign) v).sign : ' ';
                 if ("+-*%".indexOf(sign) < 0) {
-                    return super.inverse();
+                    return super.back(depth, names);
                 }
                 if (isNounLeft && (sign == '-' || sign == '%')) {
                     return this;
@@ -1018,8 +1031,8 @@ public final class PlainComparison {
             }
 
             @Override
-            Verb inverse() {
-                return new Ranked(u.inverse(), ranks, word);
+            Verb back(int depth, int names) {
+                return new Ranked(u.inverse(depth + 1, 0), ranks, word);
             }
         }
 
@@ -1038,7 +1051,7 @@ public final class PlainComparison {
                 if (n < 0 && x != null) {
                     throw new Stop('d', word);
                 }
-                Verb w = n < 0 ? u.inverse() : u;
+                Verb w = n < 0 ? u.inverse(depth + 1, 0) : u;
                 Arr r = y;
                 for (int k = 0; k < (n == 10 ? 50 : Math.abs(n)); k++) {
                     Arr next = w.at(x, r, depth + 1);
@@ -1054,8 +1067,8 @@ public final class PlainComparison {
             }
 
             @Override
-            Verb inverse() {
-                return n == 10 ? super.inverse() : new Power(u, -n, word);
+            Verb back(int depth, int names) {
+                return n == 10 ? super.back(depth, names) : new Power(u, -n, word);
             }
         }
 
@@ -1074,7 +1087,7 @@ public final class PlainComparison {
                 Arr right = v.at(null, y, depth + 1);
                 Arr left = x == null ? null : v.at(null, x, depth + 1);
                 Arr r = u.at(left, right, depth + 1);
-                return v.inverse().at(null, r, depth + 1);
+                return v.inverse(depth + 1, 0).at(null, r, depth + 1);
             }
         }
 
