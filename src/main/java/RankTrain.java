@@ -1984,7 +1984,7 @@ public final class RankTrain {
         /** Ends the line if a verb has no inverse; of u@v and u&v, u is looked at first. */
         private void demandInverse(Verb named, int depth) {
             Verb verb = behindNames(named);
-            bench.demand(depth <= MOST_DEPTH, 'm', wordOf(verb, true));
+            bench.enter(wordOf(verb, true), depth);
             switch (verb.form) {
                 case Verb.SIGN:
                     bench.demand(WITH_INVERSE.indexOf(verb.sign) >= 0, 'n', verb.word);
