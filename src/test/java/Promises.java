@@ -443,6 +443,10 @@ public final class Promises {
         due("errorShare", x.errorShare(), 1f / 16f);
     }
 
+    private static String word(long whole) {
+        return "#" + String.format("%016x", Double.doubleToLongBits((double) whole));
+    }
+
     private static void arithmetic() {
         fresh();
         noun("2147483647+1", "#41e0000000000000");
@@ -453,6 +457,9 @@ public final class Promises {
         noun("2147483647*2147483647", "#43cfffffff800000");
         noun("46341*46341", "#41e0000243200000");
         noun("46340*_46340", "_2147395600");
+        // A long in the middle of two doubles becomes the even one.
+        noun("94906267*94906267", word(94906267L * 94906267));
+        noun("94906267*_94906269", word(94906267L * -94906269));
         noun("*_5 0 7", "_1 0 1");
         noun("*#bff0000000000000 #8000000000000000 #7ff8000000000000", "_1 0 0");
         noun("%4", "#3fd0000000000000");
@@ -518,6 +525,8 @@ public final class Promises {
         noun("(1 2,\"0(<3))", "error d2");
         noun(">(<1),(<i2),(<2 2$7)", "3 2 2$1 0 0 0 0 1 0 0 7 7 7 7");
         noun(">(<1),(<#3ff0000000000000)", "#3ff0000000000000 #3ff0000000000000");
+        noun(">(<i0),(<1)", "2 1$0 1");
+        noun(">(<0 3$0),(<1)", "2 1 3$0 0 0 1 0 0");
         fails(">(<1),(<<1)", "d0");
         noun(">(<i0),(<0$<1)", "error d0");
         noun(">(<<1),(<(<1),(<2))", "2 2$(<1),(<0$0),(<1),(<2)");
@@ -756,6 +765,8 @@ public final class Promises {
         noun("(-^3)5", "_5");
         noun("2(+^3)5", "11");
         noun("(-^_3)5", "_5");
+        noun("(-^_9)5", "_5");
+        noun("(-^9)5", "_5");
         fails("2(-^_3)5", "d3");
         fails("-^11", "d1");
         fails("-^_10", "d1");
@@ -850,6 +861,13 @@ public final class Promises {
         fails("(A^1)5", "m2");
         took(0, 1, 0);
         fails("(A^1)i0", "m2");
+        // What is made for the inverse of 1&+ is at the word of "+", and applies "-" one deeper.
+        verb("A:1&+^_1" + "^1".repeat(36));
+        noun("A 5", "4");
+        fails("(A^1)5", "m4");
+        took(0, 1, 0);
+        fails("(A^1^1)5", "m4");
+        took(0, 0, 0);
         // What takes no applications could be repeated for ages.
         noun("(+^0^9^9^9^9^9^9^9^9^9^9^9^9^9^9^9^9^9^9^9)5", "5");
         took(0, 0, 0);
