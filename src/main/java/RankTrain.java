@@ -294,6 +294,47 @@ public final class RankTrain {
                 System.arraycopy(from.cells, fromCell, cells, toCell, cellCount);
             }
         }
+
+        /** Takes the kind, the shape and the cells of another noun. */
+        void copyAll(Noun other) {
+            sort = other.sort;
+            axes = other.axes;
+            count = other.count;
+            isTooLarge = false;
+            for (int k = 0; k < axes; k++) {
+                lengths[k] = other.lengths[k];
+            }
+            copyCells(other, 0, 0, count);
+        }
+
+        boolean isIdentical(Noun other) {
+            boolean isIdentical = sort == other.sort && hasShapeOf(other);
+            for (int k = 0; k < count && isIdentical; k++) {
+                isIdentical = cells[k] == other.cells[k];
+            }
+            return isIdentical;
+        }
+
+        boolean hasShapeOf(Noun other) {
+            boolean isSame = axes == other.axes;
+            for (int k = 0; k < axes && isSame; k++) {
+                isSame = lengths[k] == other.lengths[k];
+            }
+            return isSame;
+        }
+
+        /** A number that is mostly another one for another shape, or other keys of its cells. */
+        long mixedInto(long seed, long[] keys) {
+            long mix = seed * 31 + axes;
+            for (int k = 0; k < axes; k++) {
+                mix = mix * 31 + lengths[k];
+            }
+            for (int k = 0; k < count && k < keys.length; k++) {
+                mix = mix * 1000003 + keys[k];
+                mix ^= mix >>> 29;
+            }
+            return mix;
+        }
     }
 
     /** A noun that is kept for good, just once for each kind, shape and cells. */
@@ -357,14 +398,16 @@ public final class RankTrain {
             long twin = areSameKeys(oneKeys, 0, oneKeys, 0, noun.count) ? number : NEVER_SAME;
             for (int k = newest[hash]; k >= 0; k = at(k).next) {
                 Kept old = at(k);
-                if (isIdentical(old.noun, noun)) {
+                if (old.noun.isIdentical(noun)) {
                     return k;
                 }
                 if (canBeSame(old.noun, noun) && areSameKeys(old.keys, 0, oneKeys, 0, noun.count)) {
                     twin = old.twin;
                 }
             }
-            Kept kept = new Kept(copyOf(noun), Arrays.copyOf(oneKeys, noun.count), twin, newest[hash]);
+            Noun copy = new Noun(noun.count);
+            copy.copyAll(noun);
+            Kept kept = new Kept(copy, Arrays.copyOf(oneKeys, noun.count), twin, newest[hash]);
             kept.boxDepth = boxDepthOf(noun);
             kept.characters = charactersOf(noun);
             all.add(kept);
@@ -372,25 +415,8 @@ public final class RankTrain {
             return number;
         }
 
-        private static Noun copyOf(Noun noun) {
-            Noun copy = new Noun(noun.count);
-            copy.sort = noun.sort;
-            for (int k = 0; k < noun.axes; k++) {
-                copy.addAxis(noun.lengths[k]);
-            }
-            copy.copyCells(noun, 0, 0, noun.count);
-            return copy;
-        }
-
         private static int hashOf(Noun noun, long[] keys) {
-            long mix = noun.axes;
-            for (int k = 0; k < noun.axes; k++) {
-                mix = mix * 31 + noun.lengths[k];
-            }
-            for (int k = 0; k < noun.count && k < keys.length; k++) {
-                mix = mix * 1000003 + keys[k];
-                mix ^= mix >>> 29;
-            }
+            long mix = noun.mixedInto(0, keys);
             return (int) ((mix ^ (mix >>> 17)) & (HASHES - 1));
         }
 
@@ -404,14 +430,6 @@ public final class RankTrain {
 
         // How nouns are compared.
 
-        boolean isIdentical(Noun one, Noun other) {
-            boolean isIdentical = one.sort == other.sort && hasSameShape(one, other);
-            for (int k = 0; k < one.count && isIdentical; k++) {
-                isIdentical = one.cells[k] == other.cells[k];
-            }
-            return isIdentical;
-        }
-
         /** As "i" finds nouns the same: kinds aside, numbers as doubles. */
         boolean isSame(Noun one, Noun other) {
             putKeys(one, oneKeys);
@@ -420,15 +438,7 @@ public final class RankTrain {
         }
 
         private static boolean canBeSame(Noun one, Noun other) {
-            return hasSameShape(one, other) && (one.count == 0 || (one.sort == 'x') == (other.sort == 'x'));
-        }
-
-        private static boolean hasSameShape(Noun one, Noun other) {
-            boolean isSame = one.axes == other.axes;
-            for (int k = 0; k < one.axes && isSame; k++) {
-                isSame = one.lengths[k] == other.lengths[k];
-            }
-            return isSame;
+            return one.hasShapeOf(other) && (one.count == 0 || (one.sort == 'x') == (other.sort == 'x'));
         }
 
         /** Puts a key for each cell into a row: cells of numbers, or cells of boxes, with equal keys are the same. */
@@ -554,12 +564,23 @@ public final class RankTrain {
 
     /** What a line has on the go: the nouns that it made and may drop again, what it took and what went wrong. */
     private static final class Bench {
-        /** Names can repeat verbs that cost nothing for ages; no line that anyone waits for comes near this. */
-        private static final int MOST_STEPS = 1000000;
+        /** How many applications are known at most; a power of two. */
+        private static final int MOST_KNOWN = 2048;
+        private static final int NOUNS_OF_ONE = 3;
+        /** The kind of an argument that there is not. */
+        private static final char NO_NOUN = ' ';
 
         private final ArrayList<Noun> nouns = new ArrayList<Noun>();
         private int used;
-        private int steps;
+        /** How deep the application that stands open at each depth led. */
+        private final int[] reached = new int[MOST_DEPTH + 1];
+        /** What applications that took nothing made: the verb, its arguments and result, and how much deeper it led. */
+        private final Verb[] knownVerbs = new Verb[MOST_KNOWN];
+        private final Noun[] knownNouns = new Noun[NOUNS_OF_ONE * MOST_KNOWN];
+        private final int[] knownReaches = new int[MOST_KNOWN];
+        /** In which period each became known; what is of an earlier one is forgotten. */
+        private final int[] knownPeriods = new int[MOST_KNOWN];
+        private int period;
         long paid;
         int applied;
         int specialTimes;
@@ -568,10 +589,10 @@ public final class RankTrain {
 
         void clear() {
             used = 0;
-            steps = 0;
             paid = 0;
             applied = 0;
             specialTimes = 0;
+            forget();
         }
 
         /** Ends the line with an error if something does not hold. */
@@ -584,8 +605,18 @@ public final class RankTrain {
         }
 
         void enter(int word, int depth) {
-            steps++;
-            demand(depth <= MOST_DEPTH && steps <= MOST_STEPS, 'm', word);
+            demand(depth <= MOST_DEPTH, 'm', word);
+            if (depth > 0 && depth <= MOST_DEPTH) {
+                reached[depth] = depth;
+                reach(depth - 1, depth);
+            }
+        }
+
+        /** Notes how deep the applications that stand open from a depth upwards led. */
+        private void reach(int depth, int deepest) {
+            for (int k = depth; k >= 0 && reached[k] < deepest; k--) {
+                reached[k] = deepest;
+            }
         }
 
         void countApplication(int word) {
@@ -643,6 +674,62 @@ public final class RankTrain {
                 nouns.set(mark, result);
                 result.place = mark;
                 used = mark + 1;
+            }
+        }
+
+        // No limit ends a line for applications that take nothing, and names can ask for more of them than anyone
+        // waits for. So what they made is known for a while, and not made again.
+
+        void forget() {
+            period++;
+        }
+
+        /** Where it is known what a verb, or its inverse, makes of these arguments. */
+        int placeOfKnown(Verb verb, boolean isBack, Noun x, Noun y) {
+            long mix = y.mixedInto(verb.number, y.cells);
+            mix = x == null ? mix : x.mixedInto(mix, x.cells);
+            return (int) ((mix ^ (mix >>> 17)) & (MOST_KNOWN / 2 - 1)) * 2 + (isBack ? 1 : 0);
+        }
+
+        /** What is known of a verb with these arguments, or null; so deep that it ends the line, nothing is. */
+        Noun known(int place, Verb verb, Noun x, Noun y, int depth) {
+            int deepest = depth + knownReaches[place];
+            if (knownPeriods[place] != period || knownVerbs[place] != verb || deepest > MOST_DEPTH) {
+                return null;
+            }
+            Noun made = knownNouns[NOUNS_OF_ONE * place + 2];
+            if (made == null || !isKnown(NOUNS_OF_ONE * place, x) || !isKnown(NOUNS_OF_ONE * place + 1, y)) {
+                return null;
+            }
+            reach(depth, deepest);
+            Noun result = blank(made.sort);
+            result.copyAll(made);
+            return result;
+        }
+
+        private boolean isKnown(int place, Noun argument) {
+            Noun known = knownNouns[place];
+            return known != null && (argument == null ? known.sort == NO_NOUN : known.isIdentical(argument));
+        }
+
+        void makeKnown(int place, Verb verb, Noun x, Noun y, Noun result, int depth) {
+            knownPeriods[place] = period;
+            knownVerbs[place] = verb;
+            knownReaches[place] = reached[depth] - depth;
+            putKnown(NOUNS_OF_ONE * place, x);
+            putKnown(NOUNS_OF_ONE * place + 1, y);
+            putKnown(NOUNS_OF_ONE * place + 2, result);
+        }
+
+        private void putKnown(int place, Noun noun) {
+            if (knownNouns[place] == null) {
+                knownNouns[place] = new Noun(MOST_CELLS);
+            }
+            Noun known = knownNouns[place];
+            if (noun == null) {
+                known.start(NO_NOUN);
+            } else {
+                known.copyAll(noun);
             }
         }
     }
@@ -957,6 +1044,8 @@ public final class RankTrain {
         /** The character of a verb of one character or of a name. */
         final char sign;
         final int word;
+        /** Tells it from all others of the session. */
+        final int number;
         Verb left;
         Verb middle;
         Verb right;
@@ -967,10 +1056,11 @@ public final class RankTrain {
         int rankOfLeft = MOST_AXES;
         int rankOfRight = MOST_AXES;
 
-        Verb(char form, char sign, int word) {
+        Verb(char form, char sign, int word, int number) {
             this.form = form;
             this.sign = sign;
             this.word = word;
+            this.number = number;
         }
 
         boolean isSign(char wanted) {
@@ -1612,6 +1702,7 @@ public final class RankTrain {
         private static final int SETTLED = 10;
         private static final int MOST_TRIES = 50;
         private static final int MOST_NAMES_BEHIND = 100;
+        private static final int MOST_LOOKS = 1000000;
 
         private final Bench bench;
         private final Store store;
@@ -1619,6 +1710,10 @@ public final class RankTrain {
         private final Level[] levels = new Level[MOST_DEPTH + 1];
         private final Verb[] nameVerbs = new Verb[NAMES];
         private final int[] nameNouns = new int[NAMES];
+        /** The verbs that are still to be looked at for an inverse, the next one last. */
+        private final ArrayList<Verb> toLookAt = new ArrayList<Verb>();
+        /** A bit for each name that was looked at. */
+        private int namesLookedAt;
         boolean isSpecial = true;
 
         Machine(Bench bench, Store store, Numbers numbers) {
@@ -1638,6 +1733,7 @@ public final class RankTrain {
         void give(char name, Verb verb, Noun noun) {
             int index = name - 'A';
             if (index >= 0 && index < NAMES) {
+                bench.forget();
                 nameVerbs[index] = verb;
                 nameNouns[index] = verb == null && noun != null ? store.keep(noun) : -1;
             }
@@ -1664,9 +1760,18 @@ public final class RankTrain {
                 bench.applied++;
             }
             bench.enter(wordOf(applied, isBack), depth);
+            int place = bench.placeOfKnown(applied, isBack, x, y);
+            Noun known = bench.known(place, applied, x, y, depth);
+            if (known != null) {
+                return known;
+            }
+            int before = bench.applied;
             int mark = bench.mark();
             Noun result = isBack ? backResult(applied, y, depth) : result(applied, x, y, depth);
             bench.release(mark, result);
+            if (bench.applied == before) {
+                bench.makeKnown(place, applied, x, y, result, depth);
+            }
             return result;
         }
 
@@ -1715,7 +1820,7 @@ public final class RankTrain {
                     return power(verb, verb.times, x, y, depth);
                 case Verb.UNDER:
                     Noun changed = ofBoth(verb, x, y, depth);
-                    demandInverse(verb.right, depth + 1);
+                    demandInverse(verb.right);
                     return apply(verb.right, true, null, changed, depth + 1);
                 default:
                     return train(verb, x, y, depth);
@@ -1957,56 +2062,81 @@ public final class RankTrain {
             boolean isBack = times < 0;
             if (isBack) {
                 bench.demand(x == null, 'd', verb.word);
-                demandInverse(verb.left, depth + 1);
+                demandInverse(verb.left);
             }
             int tries = times == SETTLED ? MOST_TRIES : Math.abs(times);
-            boolean isSettled = times != SETTLED;
-            boolean isStill = false;
+            boolean isSettled = false;
             int mark = bench.mark();
             Noun result = y;
-            for (int k = 0; k < tries && !isStill; k++) {
-                int before = bench.applied;
+            for (int k = 0; k < tries && !isSettled; k++) {
                 Noun next = apply(verb.left, isBack, x, result, depth + 1);
-                if (times == SETTLED) {
-                    isSettled = store.isSame(result, next);
-                    isStill = isSettled;
-                } else {
-                    // What took nothing and changed nothing would go on like that; it could go on for ages.
-                    isStill = bench.applied == before && store.isIdentical(result, next);
-                }
+                isSettled = times == SETTLED && store.isSame(result, next);
                 bench.release(mark, next);
                 result = next;
             }
-            bench.demand(isSettled, 'm', verb.word);
+            bench.demand(isSettled || times != SETTLED, 'm', verb.word);
             return result;
         }
 
-        /** Ends the line if a verb has no inverse; of u@v and u&v, u is looked at first. */
-        private void demandInverse(Verb named, int depth) {
-            Verb verb = behindNames(named);
-            bench.enter(wordOf(verb, true), depth);
+        /** Ends the line if a verb has no inverse. Looking for it applies nothing, so it may be ever so far down. */
+        private void demandInverse(Verb verb) {
+            toLookAt.clear();
+            namesLookedAt = 0;
+            lookForInverse(verb, 0);
+        }
+
+        /**
+         * Looks at a verb and the verbs in it, of u@v and u&v at u first. Answers false if this leads back into a name
+         * around it: there is no end of looking then, and applying goes on until it is too deep or wrong.
+         */
+        private boolean lookForInverse(Verb verb, int namesAround) {
+            int before = toLookAt.size();
+            boolean hasEnd = true;
+            toLookAt.add(verb);
+            for (int k = 0; k < MOST_LOOKS && hasEnd && toLookAt.size() > before; k++) {
+                Verb next = toLookAt.remove(toLookAt.size() - 1);
+                int name = next.form == Verb.NAME ? 1 << Math.floorMod(next.sign - 'A', NAMES) : 0;
+                hasEnd = (namesAround & name) == 0;
+                if (hasEnd && name != 0 && (namesLookedAt & name) == 0) {
+                    hasEnd = lookForInverse(verbOf(next), namesAround | name);
+                    namesLookedAt |= name;
+                } else if (name == 0) {
+                    demandOwnInverse(next);
+                    lookIntoParts(next);
+                }
+            }
+            return hasEnd;
+        }
+
+        private void lookIntoParts(Verb verb) {
+            boolean hasTwo = verb.form == Verb.ATOP || verb.form == Verb.BOTH;
+            if (hasTwo) {
+                toLookAt.add(verb.right);
+            }
+            if (hasTwo || verb.form == Verb.RANKED) {
+                toLookAt.add(verb.left);
+            }
+        }
+
+        /** Ends the line if a verb, whatever the verbs in it are, has no inverse. */
+        private void demandOwnInverse(Verb verb) {
+            boolean hasInverse = verb.form == Verb.ATOP || verb.form == Verb.BOTH || verb.form == Verb.RANKED;
             switch (verb.form) {
                 case Verb.SIGN:
-                    bench.demand(WITH_INVERSE.indexOf(verb.sign) >= 0, 'n', verb.word);
+                    hasInverse = WITH_INVERSE.indexOf(verb.sign) >= 0;
                     break;
                 case Verb.NOUN_LEFT:
                 case Verb.NOUN_RIGHT:
                     Verb beside = verb.besideNoun();
-                    boolean isSign = beside.form == Verb.SIGN;
-                    bench.demand(isSign && WITH_INVERSE_BESIDE_NOUN.indexOf(beside.sign) >= 0, 'n', verb.word);
+                    hasInverse = beside.form == Verb.SIGN && WITH_INVERSE_BESIDE_NOUN.indexOf(beside.sign) >= 0;
                     break;
-                case Verb.ATOP:
-                case Verb.BOTH:
-                    demandInverse(verb.left, depth + 1);
-                    demandInverse(verb.right, depth + 1);
-                    break;
-                case Verb.RANKED:
-                    demandInverse(verb.left, depth + 1);
+                case Verb.POWER:
+                    hasInverse = verb.times != SETTLED;
                     break;
                 default:
-                    bench.demand(verb.form == Verb.POWER && verb.times != SETTLED, 'n', verb.word);
                     break;
             }
+            bench.demand(hasInverse, 'n', verb.word);
         }
     }
 
@@ -2214,6 +2344,7 @@ public final class RankTrain {
         private final Verb[] verbs = new Verb[STACK_ROOM];
         private final int[] words = new int[STACK_ROOM];
         private int things;
+        private int madeVerbs;
 
         Sentence(Line line, Bench bench, Store store, Machine machine) {
             this.line = line;
@@ -2259,10 +2390,10 @@ public final class RankTrain {
             if (sort == 'n') {
                 noun = line.nounOf(word, bench);
             } else if (sort == 'v') {
-                verb = new Verb(Verb.SIGN, sign, word);
+                verb = newVerb(Verb.SIGN, sign, word);
             } else if (sort == 'w' && sortAt(0) != ':') {
                 noun = machine.nounOf(sign);
-                verb = noun == null ? new Verb(Verb.NAME, sign, word) : null;
+                verb = noun == null ? newVerb(Verb.NAME, sign, word) : null;
                 sort = noun == null ? 'v' : 'n';
             }
             push(sort, noun, verb, word);
@@ -2276,6 +2407,11 @@ public final class RankTrain {
                 words[things] = word;
                 things++;
             }
+        }
+
+        private Verb newVerb(char form, char sign, int word) {
+            madeVerbs++;
+            return new Verb(form, sign, word, madeVerbs);
         }
 
         /** The sort of the thing at a place from the first one on, or ' ' if there is none. */
@@ -2388,7 +2524,7 @@ public final class RankTrain {
 
         private Verb byAdverb() {
             int word = wordAtPlace(2);
-            Verb made = new Verb(line.signOf(word), ' ', word);
+            Verb made = newVerb(line.signOf(word), ' ', word);
             made.left = verbAt(1);
             bench.demand(made.left != null, 'd', word);
             return made;
@@ -2402,7 +2538,7 @@ public final class RankTrain {
             if (sign == '&' && (left == null || right == null)) {
                 return withNoun(left, right, word);
             }
-            Verb made = new Verb(sign, ' ', word);
+            Verb made = newVerb(sign, ' ', word);
             made.left = left;
             made.right = right;
             bench.demand(left != null, 'd', word);
@@ -2416,7 +2552,7 @@ public final class RankTrain {
 
         private Verb withNoun(Verb left, Verb right, int word) {
             bench.demand(left != null || right != null, 'd', word);
-            Verb made = new Verb(left == null ? Verb.NOUN_LEFT : Verb.NOUN_RIGHT, ' ', word);
+            Verb made = newVerb(left == null ? Verb.NOUN_LEFT : Verb.NOUN_RIGHT, ' ', word);
             made.left = left;
             made.right = right;
             made.noun = store.keep(left == null ? nounAt(1) : nounAt(3));
@@ -2451,7 +2587,7 @@ public final class RankTrain {
         private Verb fork() {
             Verb middle = verbAt(2);
             Verb left = verbAt(1);
-            Verb made = new Verb(left == null ? Verb.NOUN_FORK : Verb.FORK, ' ', middle == null ? 0 : middle.word);
+            Verb made = newVerb(left == null ? Verb.NOUN_FORK : Verb.FORK, ' ', middle == null ? 0 : middle.word);
             made.left = left;
             made.middle = middle;
             made.right = verbAt(3);
@@ -2463,7 +2599,7 @@ public final class RankTrain {
 
         private Verb hook() {
             Verb left = verbAt(1);
-            Verb made = new Verb(Verb.HOOK, ' ', left == null ? 0 : left.word);
+            Verb made = newVerb(Verb.HOOK, ' ', left == null ? 0 : left.word);
             made.left = left;
             made.right = verbAt(2);
             return made;
