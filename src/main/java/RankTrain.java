@@ -216,6 +216,8 @@ public final class RankTrain {
 
     /** An array. A cell is a whole number, the bits of a double, or the number that the store gave to what is boxed. */
     private static final class Noun {
+        private static final int LENGTH_BITS = 7;
+
         final int[] lengths = new int[MOST_AXES];
         final long[] cells;
         char sort = 'i';
@@ -234,6 +236,26 @@ public final class RankTrain {
             axes = 0;
             count = 1;
             isTooLarge = false;
+        }
+
+        /** Its kind and shape in one number. */
+        long form() {
+            long form = sort;
+            for (int k = MOST_AXES - 1; k >= 0; k--) {
+                form = form << LENGTH_BITS | (k < axes ? lengths[k] + 1 : 0);
+            }
+            return form;
+        }
+
+        /** Takes the kind and the shape of a noun that has this form. */
+        void startForm(long form) {
+            start((char) (form >> LENGTH_BITS * MOST_AXES));
+            for (int k = 0; k < MOST_AXES; k++) {
+                long length = (form >> LENGTH_BITS * k & (1 << LENGTH_BITS) - 1) - 1;
+                if (length >= 0) {
+                    addAxis(length);
+                }
+            }
         }
 
         void addAxis(long length) {
@@ -323,9 +345,9 @@ public final class RankTrain {
             return isSame;
         }
 
-        /** A number that is mostly another one for another shape, or other keys of its cells. */
-        long mixedInto(long seed, long[] keys) {
-            long mix = seed * 31 + axes;
+        /** A number less than a power of two, mostly another one for another shape or other keys of its cells. */
+        int hashOf(long[] keys, int hashes) {
+            long mix = axes;
             for (int k = 0; k < axes; k++) {
                 mix = mix * 31 + lengths[k];
             }
@@ -333,7 +355,7 @@ public final class RankTrain {
                 mix = mix * 1000003 + keys[k];
                 mix ^= mix >>> 29;
             }
-            return mix;
+            return (int) ((mix ^ (mix >>> 17)) & (hashes - 1));
         }
     }
 
@@ -380,7 +402,7 @@ public final class RankTrain {
             emptyList = new Kept(none, new long[0], EMPTY_LIST, -1);
             emptyList.characters = charactersOf(none);
             all.add(emptyList);
-            newest[hashOf(none, oneKeys)] = EMPTY_LIST;
+            newest[none.hashOf(oneKeys, HASHES)] = EMPTY_LIST;
         }
 
         Kept at(long number) {
@@ -393,7 +415,7 @@ public final class RankTrain {
 
         int keep(Noun noun) {
             putKeys(noun, oneKeys);
-            int hash = hashOf(noun, oneKeys);
+            int hash = noun.hashOf(oneKeys, HASHES);
             int number = all.size();
             long twin = areSameKeys(oneKeys, 0, oneKeys, 0, noun.count) ? number : NEVER_SAME;
             for (int k = newest[hash]; k >= 0; k = at(k).next) {
@@ -413,11 +435,6 @@ public final class RankTrain {
             all.add(kept);
             newest[hash] = number;
             return number;
-        }
-
-        private static int hashOf(Noun noun, long[] keys) {
-            long mix = noun.mixedInto(0, keys);
-            return (int) ((mix ^ (mix >>> 17)) & (HASHES - 1));
         }
 
         int boxDepthOf(Noun noun) {
@@ -564,23 +581,26 @@ public final class RankTrain {
 
     /** What a line has on the go: the nouns that it made and may drop again, what it took and what went wrong. */
     private static final class Bench {
-        /** How many applications are known at most; a power of two. */
-        private static final int MOST_KNOWN = 2048;
-        private static final int NOUNS_OF_ONE = 3;
-        /** The kind of an argument that there is not. */
-        private static final char NO_NOUN = ' ';
+        private static final int FIRST_ROOM = 1024;
+        private static final int MOST_ROOM = 1048576;
+        private static final int NOUN_ROOM = 2;
+        private static final int APPLICATION_ROOM = 6;
+        /** A power of two. */
+        private static final int HEADS = 8192;
 
         private final ArrayList<Noun> nouns = new ArrayList<Noun>();
         private int used;
         /** How deep the application that stands open at each depth led. */
         private final int[] reached = new int[MOST_DEPTH + 1];
-        /** What applications that took nothing made: the verb, its arguments and result, and how much deeper it led. */
-        private final Verb[] knownVerbs = new Verb[MOST_KNOWN];
-        private final Noun[] knownNouns = new Noun[NOUNS_OF_ONE * MOST_KNOWN];
-        private final int[] knownReaches = new int[MOST_KNOWN];
-        /** In which period each became known; what is of an earlier one is forgotten. */
-        private final int[] knownPeriods = new int[MOST_KNOWN];
-        private int period;
+        /**
+         * What is known: nouns, each the place of the next one with the same head, its form and its cells, and
+         * applications, each the place of the next one, the verb, the places of x, y and the result, and how much deeper
+         * it led. At the place 0 there is nothing.
+         */
+        private long[] known = new long[FIRST_ROOM];
+        private int knownUsed = 1;
+        private final int[] nounHeads = new int[HEADS];
+        private final int[] applicationHeads = new int[HEADS];
         long paid;
         int applied;
         int specialTimes;
@@ -678,59 +698,115 @@ public final class RankTrain {
         }
 
         // No limit ends a line for applications that take nothing, and names can ask for more of them than anyone
-        // waits for. So what they made is known for a while, and not made again.
+        // waits for. So what they made is known for the rest of the line, and not made again.
 
         void forget() {
-            period++;
-        }
-
-        /** Where it is known what a verb, or its inverse, makes of these arguments. */
-        int placeOfKnown(Verb verb, boolean isBack, Noun x, Noun y) {
-            long mix = y.mixedInto(verb.number, y.cells);
-            mix = x == null ? mix : x.mixedInto(mix, x.cells);
-            return (int) ((mix ^ (mix >>> 17)) & (MOST_KNOWN / 2 - 1)) * 2 + (isBack ? 1 : 0);
-        }
-
-        /** What is known of a verb with these arguments, or null; so deep that it ends the line, nothing is. */
-        Noun known(int place, Verb verb, Noun x, Noun y, int depth) {
-            int deepest = depth + knownReaches[place];
-            if (knownPeriods[place] != period || knownVerbs[place] != verb || deepest > MOST_DEPTH) {
-                return null;
+            if (knownUsed > 1) {
+                Arrays.fill(nounHeads, 0);
+                Arrays.fill(applicationHeads, 0);
+                knownUsed = 1;
             }
-            Noun made = knownNouns[NOUNS_OF_ONE * place + 2];
-            if (made == null || !isKnown(NOUNS_OF_ONE * place, x) || !isKnown(NOUNS_OF_ONE * place + 1, y)) {
+        }
+
+        /** What a verb is known to make of these arguments so deep, or null. */
+        Noun knownResult(long verb, Noun x, Noun y, int depth) {
+            int xPlace = placeOf(x);
+            int yPlace = placeOf(y);
+            int place = xPlace < 0 || yPlace < 0 ? 0 : applicationHeads[headOf(verb, xPlace, yPlace)];
+            while (place > 0 && !isApplicationAt(place, verb, xPlace, yPlace)) {
+                place = placeBehind(place);
+            }
+            int deepest = place > 0 ? depth + (int) known[place + 5] : 0;
+            if (place <= 0 || deepest > MOST_DEPTH) {
                 return null;
             }
             reach(depth, deepest);
-            Noun result = blank(made.sort);
-            result.copyAll(made);
-            return result;
+            return nounAt((int) known[place + 4]);
         }
 
-        private boolean isKnown(int place, Noun argument) {
-            Noun known = knownNouns[place];
-            return known != null && (argument == null ? known.sort == NO_NOUN : known.isIdentical(argument));
-        }
-
-        void makeKnown(int place, Verb verb, Noun x, Noun y, Noun result, int depth) {
-            knownPeriods[place] = period;
-            knownVerbs[place] = verb;
-            knownReaches[place] = reached[depth] - depth;
-            putKnown(NOUNS_OF_ONE * place, x);
-            putKnown(NOUNS_OF_ONE * place + 1, y);
-            putKnown(NOUNS_OF_ONE * place + 2, result);
-        }
-
-        private void putKnown(int place, Noun noun) {
-            if (knownNouns[place] == null) {
-                knownNouns[place] = new Noun(MOST_CELLS);
+        /** Makes known what a verb made of these arguments. */
+        void know(long verb, Noun x, Noun y, Noun result, int depth) {
+            if (knownUsed + APPLICATION_ROOM + 3 * (NOUN_ROOM + MOST_CELLS) > known.length) {
+                makeRoom();
             }
-            Noun known = knownNouns[place];
-            if (noun == null) {
-                known.start(NO_NOUN);
+            int xPlace = placeMade(x);
+            int yPlace = placeMade(y);
+            int resultPlace = placeMade(result);
+            int head = headOf(verb, xPlace, yPlace);
+            int place = knownUsed;
+            known[place] = applicationHeads[head];
+            known[place + 1] = verb;
+            known[place + 2] = xPlace;
+            known[place + 3] = yPlace;
+            known[place + 4] = resultPlace;
+            known[place + 5] = reached[depth] - depth;
+            applicationHeads[head] = place;
+            knownUsed += APPLICATION_ROOM;
+        }
+
+        private void makeRoom() {
+            if (known.length < MOST_ROOM) {
+                known = Arrays.copyOf(known, 2 * known.length);
             } else {
-                known.copyAll(noun);
+                forget();
             }
+        }
+
+        private static int headOf(long verb, int xPlace, int yPlace) {
+            long mix = (verb * 1000003 + xPlace) * 1000003 + yPlace;
+            return (int) ((mix ^ (mix >>> 17)) & (HEADS - 1));
+        }
+
+        /** The place of the next one with the same head; it is further ahead, since it became known before. */
+        private int placeBehind(int place) {
+            return (int) Math.min(place - 1, known[place]);
+        }
+
+        private boolean isApplicationAt(int place, long verb, int xPlace, int yPlace) {
+            return known[place + 1] == verb && known[place + 2] == xPlace && known[place + 3] == yPlace;
+        }
+
+        private boolean isNounAt(int place, Noun noun, long form) {
+            boolean isSame = known[place + 1] == form;
+            for (int k = 0; k < noun.count && isSame; k++) {
+                isSame = known[place + NOUN_ROOM + k] == noun.cells[k];
+            }
+            return isSame;
+        }
+
+        /** The place of a noun, 0 for null, -1 if it is not known. */
+        private int placeOf(Noun noun) {
+            if (noun == null) {
+                return 0;
+            }
+            long form = noun.form();
+            int place = nounHeads[noun.hashOf(noun.cells, HEADS)];
+            while (place > 0 && !isNounAt(place, noun, form)) {
+                place = placeBehind(place);
+            }
+            return place > 0 ? place : -1;
+        }
+
+        private int placeMade(Noun noun) {
+            int place = placeOf(noun);
+            if (place >= 0 || noun == null) {
+                return place;
+            }
+            int head = noun.hashOf(noun.cells, HEADS);
+            place = knownUsed;
+            known[place] = nounHeads[head];
+            known[place + 1] = noun.form();
+            System.arraycopy(noun.cells, 0, known, place + NOUN_ROOM, noun.count);
+            nounHeads[head] = place;
+            knownUsed += NOUN_ROOM + noun.count;
+            return place;
+        }
+
+        private Noun nounAt(int place) {
+            Noun noun = blank('i');
+            noun.startForm(known[place + 1]);
+            System.arraycopy(known, place + NOUN_ROOM, noun.cells, 0, noun.count);
+            return noun;
         }
     }
 
@@ -1760,8 +1836,8 @@ public final class RankTrain {
                 bench.applied++;
             }
             bench.enter(wordOf(applied, isBack), depth);
-            int place = bench.placeOfKnown(applied, isBack, x, y);
-            Noun known = bench.known(place, applied, x, y, depth);
+            long key = 2L * applied.number + (isBack ? 1 : 0);
+            Noun known = applied.form == Verb.SIGN ? null : bench.knownResult(key, x, y, depth);
             if (known != null) {
                 return known;
             }
@@ -1770,7 +1846,7 @@ public final class RankTrain {
             Noun result = isBack ? backResult(applied, y, depth) : result(applied, x, y, depth);
             bench.release(mark, result);
             if (bench.applied == before) {
-                bench.makeKnown(place, applied, x, y, result, depth);
+                bench.know(key, x, y, result, depth);
             }
             return result;
         }
