@@ -582,7 +582,7 @@ public final class RankTrain {
     /** What a line has on the go: the nouns that it made and may drop again, what it took and what went wrong. */
     private static final class Bench {
         private static final int FIRST_ROOM = 1024;
-        private static final int MOST_ROOM = 1048576;
+        private static final int MOST_ROOM = 524288;
         private static final int NOUN_ROOM = 2;
         private static final int APPLICATION_ROOM = 6;
         /** A power of two. */

@@ -23,6 +23,13 @@ public final class PlainComparison {
         }
     }
 
+    /** Looking for an inverse came back to a name around it. */
+    static final class Endless extends RuntimeException {
+        Endless() {
+            super(null, null, false, false);
+        }
+    }
+
     /** Cells are Integer, Double or Arr. */
     static final class Arr {
         final char kind;
@@ -334,15 +341,23 @@ public final class PlainComparison {
 
             abstract Arr act(Arr x, Arr y, int depth);
 
-            /** The inverse, that would be applied so deep; a chain of names that leads back to itself has no end. */
-            final Verb inverse(int depth, int names) {
-                if (depth > 40 && !(this instanceof Name) || names > 100) {
-                    throw new Stop('m', this instanceof Bond ? ((Bond) this).inverseWord() : word);
+            /** The inverse, when it is needed: all that it is made of is looked for then, but nothing is applied. */
+            final Verb inverse() {
+                try {
+                    look(new ArrayList<>());
+                } catch (Endless e) {
+                    // What has no end is applied until it is too deep or wrong.
                 }
-                return back(depth, names);
+                return new Undone(this);
             }
 
-            Verb back(int depth, int names) {
+            /** Looks whether there is an inverse, within the verbs of these names. */
+            void look(List<Integer> around) {
+                back();
+            }
+
+            /** The verb that is the inverse. */
+            Verb back() {
                 throw new Stop('n', word);
             }
 
@@ -350,7 +365,7 @@ public final class PlainComparison {
                 return x.shape.length;
             }
 
-            final Arr at(Arr x, Arr y, int depth) {
+            Arr at(Arr x, Arr y, int depth) {
                 if (depth > 40) {
                     if (this instanceof Sign) {
                         applications++;
@@ -358,6 +373,33 @@ public final class PlainComparison {
                     throw new Stop('m', word);
                 }
                 return act(x, y, depth);
+            }
+        }
+
+        /** The inverse of a verb, which a name is at the time; it is not itself a verb that applies it. */
+        final class Undone extends Verb {
+            final Verb of;
+
+            Undone(Verb of) {
+                super(of.word);
+                this.of = of;
+            }
+
+            @Override
+            Arr act(Arr x, Arr y, int depth) {
+                return at(x, y, depth);
+            }
+
+            @Override
+            Arr at(Arr x, Arr y, int depth) {
+                Verb w = of;
+                for (int names = 0; w instanceof Name; names++) {
+                    if (names == 100) {
+                        throw new Stop('m', w.word);
+                    }
+                    w = ((Name) w).has();
+                }
+                return w.back().at(x, y, depth);
             }
         }
 
@@ -704,14 +746,14 @@ public final class PlainComparison {
             }
 
             @Override
-            Verb back(int depth, int names) {
+            Verb back() {
                 if ("+-%rt[]".indexOf(sign) >= 0) {
                     return this;
                 }
                 if (sign == '<' || sign == '>') {
                     return new Sign(sign == '<' ? '>' : '<', word);
                 }
-                return super.back(depth, names);
+                return super.back();
             }
         }
 
@@ -789,8 +831,13 @@ public final class PlainComparison {
             }
 
             @Override
-            Verb back(int depth, int names) {
-                return has().inverse(depth, names + 1);
+            void look(List<Integer> around) {
+                if (around.contains(name)) {
+                    throw new Endless();
+                }
+                around.add(name);
+                has().look(around);
+                around.remove((Object) name);
             }
         }
 
@@ -936,9 +983,14 @@ public final class PlainComparison {
             }
 
             @Override
-            Verb back(int depth, int names) {
-                Verb first = u.inverse(depth + 1, 0);
-                return new Atop(v.inverse(depth + 1, 0), first, word);
+            void look(List<Integer> around) {
+                u.look(around);
+                v.look(around);
+            }
+
+            @Override
+            Verb back() {
+                return new Atop(new Undone(v), new Undone(u), word);
             }
         }
 
@@ -960,9 +1012,14 @@ public final class PlainComparison {
             }
 
             @Override
-            Verb back(int depth, int names) {
-                Verb first = u.inverse(depth + 1, 0);
-                return new Atop(v.inverse(depth + 1, 0), first, word);
+            void look(List<Integer> around) {
+                u.look(around);
+                v.look(around);
+            }
+
+            @Override
+            Verb back() {
+                return new Atop(new Undone(v), new Undone(u), word);
             }
         }
 
@@ -986,16 +1043,11 @@ public final class PlainComparison {
                 return isNounLeft ? v.at(n, y, depth + 1) : v.at(y, n, depth + 1);
             }
 
-            int inverseWord() {
-                boolean isOwn = isNounLeft && v instanceof Sign && "-%".indexOf(((Sign) v).sign) >= 0;
-                return isOwn ? word : v.word;
-            }
-
             @Override
-            Verb back(int depth, int names) {
+            Verb back() {
                 char sign = v instanceof Sign ? ((Sign) v).sign : ' ';
                 if ("+-*%".indexOf(sign) < 0) {
-                    return super.back(depth, names);
+                    return super.back();
                 }
                 if (isNounLeft && (sign == '-' || sign == '%')) {
                     return this;
@@ -1031,8 +1083,13 @@ public final class PlainComparison {
             }
 
             @Override
-            Verb back(int depth, int names) {
-                return new Ranked(u.inverse(depth + 1, 0), ranks, word);
+            void look(List<Integer> around) {
+                u.look(around);
+            }
+
+            @Override
+            Verb back() {
+                return new Ranked(new Undone(u), ranks, word);
             }
         }
 
@@ -1051,7 +1108,7 @@ public final class PlainComparison {
                 if (n < 0 && x != null) {
                     throw new Stop('d', word);
                 }
-                Verb w = n < 0 ? u.inverse(depth + 1, 0) : u;
+                Verb w = n < 0 ? u.inverse() : u;
                 Arr r = y;
                 for (int k = 0; k < (n == 10 ? 50 : Math.abs(n)); k++) {
                     Arr next = w.at(x, r, depth + 1);
@@ -1067,8 +1124,8 @@ public final class PlainComparison {
             }
 
             @Override
-            Verb back(int depth, int names) {
-                return n == 10 ? super.back(depth, names) : new Power(u, -n, word);
+            Verb back() {
+                return n == 10 ? super.back() : new Power(u, -n, word);
             }
         }
 
@@ -1087,7 +1144,7 @@ public final class PlainComparison {
                 Arr right = v.at(null, y, depth + 1);
                 Arr left = x == null ? null : v.at(null, x, depth + 1);
                 Arr r = u.at(left, right, depth + 1);
-                return v.inverse(depth + 1, 0).at(null, r, depth + 1);
+                return v.inverse().at(null, r, depth + 1);
             }
         }
 
@@ -1450,8 +1507,55 @@ public final class PlainComparison {
         }
     }
 
+    /** A verb that mostly takes no applications of verbs of one character, and has an inverse now and then. */
+    static String free(int depth) {
+        int k = depth > 3 ? random(4) : random(16);
+        String u = depth > 3 ? "" : "(" + free(depth + 1) + ")";
+        String w = depth > 3 ? "" : random(2) == 0 ? "(" + free(depth + 1) + ")" : pick("D", "E", "F", "]^0");
+        switch (k) {
+            case 0: return pick("]^0", "[^0~", "+^0", "#^0", "<^0");
+            case 1: return pick("D", "E", "F");
+            case 2: return pick("]^0/", "]^0~/", "+/", "*/", "]^0\\");
+            case 3: return pick("-", "<", "1&+", "r", "[", "=", "#");
+            case 4: return u + "/";
+            case 5: return u + "\\";
+            case 6: return u + "~";
+            case 7: return u + "@" + w;
+            case 8: return w + "&" + u;
+            case 9: return noun() + "&" + u;
+            case 10: return u + "\"" + pick("0", "1", "_1", "2", "0 1");
+            case 11: return u + "^" + pick("_1", "_2", "1", "2", "3", "9", "10", "0");
+            case 12: return u + "U" + w;
+            case 13: return w + u + w;
+            case 14: return w + u;
+            default: return noun() + " " + u + w;
+        }
+    }
+
+    /** The same verb, applied so much deeper. */
+    static String deeper(String verb, int levels) {
+        StringBuilder b = new StringBuilder("(").append(verb).append(")");
+        String way = pick("^1", "\"3", "\"9");
+        for (int k = 0; k < levels; k++) {
+            b.append(way);
+        }
+        return b.toString();
+    }
+
+    static String freeLine() {
+        int k = random(8);
+        if (k < 3) {
+            return (char) ('D' + random(3)) + ":" + free(1 + random(3));
+        }
+        String verb = deeper(free(1 + random(3)), k < 5 ? 0 : random(37));
+        return (random(3) == 0 ? noun() : "") + "(" + verb + ")" + noun();
+    }
+
     static String line() {
-        int k = random(20);
+        int k = random(27);
+        if (k >= 20) {
+            return freeLine();
+        }
         if (k == 0) {
             return (char) ('A' + random(3)) + ":" + noun() + sign() + noun();
         }

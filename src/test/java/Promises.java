@@ -873,6 +873,129 @@ public final class Promises {
         took(0, 0, 0);
     }
 
+    /** An inverse is looked for without a depth; only what is applied has one. */
+    private static void farInverses() {
+        fresh();
+        String wraps = "\"3".repeat(36);
+        verb("A:-@(-@(-@-))");
+        // The power is 37 deep, the first "-" 39, the second one 40, the third one and the fourth one 41.
+        fails("(A^_1" + wraps + ")<5", "d2");
+        took(2, 2, 0);
+        fails("(A^_1" + wraps + ")5", "m8");
+        took(4, 3, 0);
+        noun("(A^_1" + wraps.substring(4) + ")5", "5");
+        verb("A:-@(-@(-@=))");
+        fails("(A^_1" + wraps + ")<5", "n10");
+        took(2, 1, 0);
+        fails("(A^_1)<5", "n10");
+        verb("A:-@(-@(-@B))");
+        fails("(A^_1" + wraps + ")<5", "v10");
+        verb("B:-");
+        noun("(A^_1)5", "5");
+        // The first "-" of B is 40 deep in C, which has no depth for B itself, and 41 deep in D.
+        verb("B:-" + "@-".repeat(37));
+        verb("C:B@B");
+        noun("(C^_1)5", "5");
+        took(76 * 2, 76, 0);
+        fails("(C^_1)<5", "d2");
+        took(2, 2, 0);
+        verb("D:C@C");
+        fails("(D^_1)5", "m2");
+        took(0, 1, 0);
+        // In U, the inverse is needed when the other verbs are done.
+        verb("D:(-@(-@(-@+)))U(+@(+@(+@#)))");
+        fails("D 5", "n25");
+        took(4 * 2 + 4 * 2, 8, 0);
+    }
+
+    /** An inverse that is made of itself goes on until it is too deep or wrong. */
+    private static void endlessInverses() {
+        fresh();
+        verb("A:A@-");
+        fails("(A^_1)5", "m3");
+        took(0, 0, 0);
+        verb("A:-@A");
+        fails("(A^_1)5", "m2");
+        took(38 * 2, 39, 0);
+        fails("(A^_1)<5", "d2");
+        took(2, 2, 0);
+        verb("A:A@=");
+        fails("(A^_1)5", "m3");
+        verb("A:=@A");
+        fails("(A^_1)5", "n2");
+        verb("B:C");
+        verb("C:B");
+        fails("(B^_1)5", "m2");
+    }
+
+    /** Verbs that are no single characters may be applied as often as a line asks for it. */
+    private static void manyVerbs() {
+        fresh();
+        verb("A:]^0");
+        for (String name : new String[] {"BA", "CB", "DC", "ED", "FE"}) {
+            verb(name.charAt(0) + ":((AAA)A(AAA))A((AAA)A(AAA))".replace('A', name.charAt(1)));
+        }
+        noun("F 5", "5");
+        took(0, 0, 0);
+        noun("((FFF)F(FFF))F((FFF)F(FFF))5", "5");
+        noun("1 F 1 2", "1 2");
+        for (String name : new String[] {"BA", "CB", "DC", "ED", "FE"}) {
+            verb(name.charAt(0) + ":((A@A)@(A@A))@((A@A)@(A@A))".replace('A', name.charAt(1)));
+        }
+        noun("(F^_1)5", "5");
+        took(0, 0, 0);
+        fresh();
+        verb("A:]^0/@(]^0/@(]^0/@(]^0/@(]^0/\\)\\)\\)\\)");
+        for (String name : new String[] {"BA", "CB", "DC", "ED"}) {
+            verb(name.charAt(0) + ":]^0/@(]^0/@(]^0/@(A\\)\\)\\)".replace('A', name.charAt(1)));
+        }
+        noun("E i64", "63");
+        took(65, 1, 0);
+        noun("E\"1(8 8$i64)", "7 15 23 31 39 47 55 63");
+    }
+
+    /** What is known of verbs that took nothing is known for the same arguments, names and depths alone. */
+    private static void knownVerbs() {
+        fresh();
+        verb("A:]^0~");
+        noun("(1 A 5),(2 A 5),(1 A 6),(1 A 5)", "1 2 1 1");
+        noun("(A 5),(1 A 5),A 5", "5 1 5");
+        verb("B:(A]^0)/");
+        noun("(B 1%1 5),((A:]^0)5),(B 1%1 5)", "#3fc999999999999a #4014000000000000 #3ff0000000000000");
+        noun("(A 1$5),(A 5),A 1$#4014000000000000", "#4014000000000000 #4014000000000000 #4014000000000000");
+        noun("(<A 1$5),(<A 5),<A 1 1$5", "3$(<1$5),(<5),(<1 1$5)");
+        verb("A:]^0");
+        noun("(<A 0),(<A #0000000000000000),(<A<i0),(<A(0$0)),<A 1$0", "5$(<0),(<#0000000000000000),(<<0$0),(<0$0),(<1$0)");
+        verb("A:+/");
+        x.setSpecial(false);
+        noun("A 1$5", "5");
+        took(3, 1, 0);
+        x.setSpecial(true);
+        noun("A 1$5", "5");
+        took(5, 2, 1);
+        // A leads 31 deeper, whether it was applied or known.
+        verb("A:]^0" + "\"3".repeat(30));
+        verb("B:A@(]^0)");
+        noun("((B" + "\"3".repeat(6) + ")5),(B 5),(A 5)", "5 5 5");
+        fails("((B" + "\"3".repeat(7) + ")5),(B 5),(A 5)", "m3");
+        fails("((B" + "\"3".repeat(7) + ")5),(B 5),(B 5)", "m3");
+    }
+
+    /** So many applications that took nothing that some of them are bound to be looked for at the same place. */
+    private static void manyKnownVerbs() {
+        for (int k = 0; k < 80; k++) {
+            if (k % 8 == 0) {
+                fresh();
+            }
+            StringBuilder b = new StringBuilder();
+            for (int cell = 0; cell < 64; cell++) {
+                b.append(cell > 0 ? " " : "").append(1000 * k + cell);
+            }
+            noun("(" + 1000 * k + "+i64)(]^0~\"0)/5", b.toString());
+            noun("5(]^0\"0)/" + 1000 * k + "+i64", b.toString());
+        }
+    }
+
     public static void main(String[] args) {
         newObject();
         typeAndRun();
@@ -895,6 +1018,11 @@ public final class Promises {
         inverses();
         trains();
         depths();
+        farInverses();
+        endlessInverses();
+        manyVerbs();
+        knownVerbs();
+        manyKnownVerbs();
         System.out.println(checked + " checks, " + wrong + " wrong");
         if (wrong > 0) {
             System.exit(1);

@@ -46,6 +46,8 @@ public final class Room {
         check("B:CB", "B:i64", "A:(<@(B&+))\"0", "C:(1&+)@([A)");
         check("A B:B+64", "B:0", "C:i64", "D:<@(C&+)\"0", "A:D@(B+])@C");
         check("A B", "B:0 0 0", "D:i\"0", "A:(#+D)/\\");
+        check("A B", "A:]^0/@(]^0/@(]^0/@(]^0/@(]^0/\\)\\)\\)\\)", "C:]^0/@(]^0/@(]^0/@(A\\)\\)\\)", "A:C\\@(C\\)", "B:i64");
+        check("AC B:B+C", "C:i64", "B:0", "A:]^0\"0@(]^0\"0)@(]^0\"0)@(]^0\"0)@(]^0\"0)");
         check("z");
         check("5 6 7 8");
         System.out.println("the room: " + wrong + " runs took too much");
