@@ -1,4 +1,5 @@
 import java.util.NoSuchElementException;
+import java.util.stream.IntStream;
 
 /** What the document promises, told line by line: what is due was worked out by hand from its words. */
 public final class Promises {
@@ -377,6 +378,8 @@ public final class Promises {
         fails("C 1", "v4");
         verb("F:F");
         fails("F 1", "m2");
+        noun("A:i0", "0$0");
+        due("named A", x.named(0), 'n');
     }
 
     // Promises 19 and 20
@@ -973,6 +976,14 @@ public final class Promises {
         x.setSpecial(true);
         noun("A 1$5", "5");
         took(5, 2, 1);
+        // Nouns without cells are told from one another by each of their lengths.
+        verb("A:]^0");
+        noun("($A 64 0 0$7),($A 0 0 0$7),($A 63 0 0$7),$A 0 1 0$7", "64 0 0 0 0 0 63 0 0 0 1 0");
+        noun("($A 0 0 64$7),($A 0 0 63$7),($A 0 64 0$7),$A 0 63 0$7", "0 0 64 0 0 63 0 64 0 0 63 0");
+        // Cells that are far from one another are looked for at the same place.
+        noun("(]^0\"0)8192*i16", "0 8192 16384 24576 32768 40960 49152 57344 65536 73728 81920 90112 98304 106496 114688 122880");
+        noun("7(]^0~\"0)8192*i9", "7 7 7 7 7 7 7 7 7");
+        noun("(8192*i9)(]^0~\"0)7", "0 8192 16384 24576 32768 40960 49152 57344 65536");
         // A leads 31 deeper, whether it was applied or known.
         verb("A:]^0" + "\"3".repeat(30));
         verb("B:A@(]^0)");
@@ -993,6 +1004,22 @@ public final class Promises {
             }
             noun("(" + 1000 * k + "+i64)(]^0~\"0)/5", b.toString());
             noun("5(]^0\"0)/" + 1000 * k + "+i64", b.toString());
+        }
+    }
+
+    /** More applications that took nothing than there is room to know of: some are forgotten and applied again. */
+    private static void forgottenVerbs() {
+        fresh();
+        noun("B:5", "5");
+        noun("A:i64", "0" + IntStream.range(1, 64).mapToObj(k -> " " + k).reduce("", String::concat));
+        for (String order : new String[] {"", "~"}) {
+            String line = "(]^0/@(]^0" + order + "^1".repeat(24 - order.length()) + "\"0)\"0 3)/~A";
+            due(line, run(line), 'n');
+            took(0, 0, 0);
+            due("size", x.size(), 64);
+            for (int k = 0; k < 64; k++) {
+                due("cell", x.cell(k), order.isEmpty() ? 63L : (long) k);
+            }
         }
     }
 
@@ -1023,6 +1050,7 @@ public final class Promises {
         manyVerbs();
         knownVerbs();
         manyKnownVerbs();
+        forgottenVerbs();
         System.out.println(checked + " checks, " + wrong + " wrong");
         if (wrong > 0) {
             System.exit(1);

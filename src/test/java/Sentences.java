@@ -56,6 +56,12 @@ public final class Sentences {
         return b.toString();
     }
 
+    /** What is shown tells the kind, too. */
+    private static String withItsKind(String shown, char kind) {
+        char want = shown.indexOf('<') >= 0 ? 'x' : shown.indexOf('#') >= 0 ? 'f' : 'i';
+        return kind == want ? shown : shown + " of the kind " + kind;
+    }
+
     private static String form(RankTrain x) {
         StringBuilder b = new StringBuilder("form ").append(x.kind());
         for (int k = 0; k < x.rank(); k++) {
@@ -66,7 +72,7 @@ public final class Sentences {
 
     private static String told(RankTrain x, char answer, boolean isForm) {
         if (answer == 'n') {
-            return isForm ? form(x) : shown(x);
+            return isForm ? form(x) : withItsKind(shown(x), x.kind());
         }
         return answer == 'e' ? "! " + x.error() + x.errorAt() : answer == 'v' ? "verb" : "nothing";
     }
