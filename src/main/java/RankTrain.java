@@ -362,8 +362,6 @@ public final class RankTrain {
     /** A noun that is kept for good, just once for each kind, shape and cells. */
     private static final class Kept {
         final Noun noun;
-        /** What its cells are for comparing. */
-        final long[] keys;
         /** What a box with it is for comparing: the number of the first noun that is the same, or NEVER_SAME. */
         final long twin;
         /** The one kept before it with the same hash, or -1. */
@@ -372,9 +370,8 @@ public final class RankTrain {
         long characters;
         int answers;
 
-        Kept(Noun noun, long[] keys, long twin, int next) {
+        Kept(Noun noun, long twin, int next) {
             this.noun = noun;
-            this.keys = keys;
             this.twin = twin;
             this.next = next;
         }
@@ -399,7 +396,7 @@ public final class RankTrain {
             Arrays.fill(newest, -1);
             Noun none = new Noun(0);
             none.addAxis(0);
-            emptyList = new Kept(none, new long[0], EMPTY_LIST, -1);
+            emptyList = new Kept(none, EMPTY_LIST, -1);
             emptyList.characters = charactersOf(none);
             all.add(emptyList);
             newest[none.hashOf(oneKeys, HASHES)] = EMPTY_LIST;
@@ -423,13 +420,14 @@ public final class RankTrain {
                 if (old.noun.isIdentical(noun)) {
                     return k;
                 }
-                if (canBeSame(old.noun, noun) && areSameKeys(old.keys, 0, oneKeys, 0, noun.count)) {
-                    twin = old.twin;
+                if (canBeSame(old.noun, noun)) {
+                    putKeys(old.noun, otherKeys);
+                    twin = areSameKeys(otherKeys, 0, oneKeys, 0, noun.count) ? old.twin : twin;
                 }
             }
             Noun copy = new Noun(noun.count);
             copy.copyAll(noun);
-            Kept kept = new Kept(copy, Arrays.copyOf(oneKeys, noun.count), twin, newest[hash]);
+            Kept kept = new Kept(copy, twin, newest[hash]);
             kept.boxDepth = boxDepthOf(noun);
             kept.characters = charactersOf(noun);
             all.add(kept);
