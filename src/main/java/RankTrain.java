@@ -415,7 +415,7 @@ public final class RankTrain {
             int hash = noun.hashOf(oneKeys, HASHES);
             int number = all.size();
             long twin = areSameKeys(oneKeys, 0, oneKeys, 0, noun.count) ? number : NEVER_SAME;
-            for (int k = newest[hash]; k >= 0; k = at(k).next) {
+            for (int k = newest[hash]; k >= 0; k = Math.min(k - 1, at(k).next)) {
                 Kept old = at(k);
                 if (old.noun.isIdentical(noun)) {
                     return k;
@@ -593,7 +593,7 @@ public final class RankTrain {
         /**
          * What is known: nouns, each the place of the next one with the same head, its form and its cells, and
          * applications, each the place of the next one, the verb, the places of x, y and the result, and how much deeper
-         * it led. At the place 0 there is nothing.
+         * it led. The next one is further ahead, since it became known before. At the place 0 there is nothing.
          */
         private long[] known = new long[FIRST_ROOM];
         private int knownUsed = 1;
@@ -712,7 +712,7 @@ public final class RankTrain {
             int yPlace = placeOf(y);
             int place = xPlace < 0 || yPlace < 0 ? 0 : applicationHeads[headOf(verb, xPlace, yPlace)];
             while (place > 0 && !isApplicationAt(place, verb, xPlace, yPlace)) {
-                place = placeBehind(place);
+                place = (int) Math.min(place - 1, known[place]);
             }
             int deepest = place > 0 ? depth + (int) known[place + 5] : 0;
             if (place <= 0 || deepest > MOST_DEPTH) {
@@ -755,11 +755,6 @@ public final class RankTrain {
             return (int) ((mix ^ (mix >>> 17)) & (HEADS - 1));
         }
 
-        /** The place of the next one with the same head; it is further ahead, since it became known before. */
-        private int placeBehind(int place) {
-            return (int) Math.min(place - 1, known[place]);
-        }
-
         private boolean isApplicationAt(int place, long verb, int xPlace, int yPlace) {
             return known[place + 1] == verb && known[place + 2] == xPlace && known[place + 3] == yPlace;
         }
@@ -780,7 +775,7 @@ public final class RankTrain {
             long form = noun.form();
             int place = nounHeads[noun.hashOf(noun.cells, HEADS)];
             while (place > 0 && !isNounAt(place, noun, form)) {
-                place = placeBehind(place);
+                place = (int) Math.min(place - 1, known[place]);
             }
             return place > 0 ? place : -1;
         }
@@ -2323,7 +2318,7 @@ public final class RankTrain {
         private int endOfList(int from) {
             int end = from;
             int next = from;
-            while (next < typed && isNumberAt(next)) {
+            for (int k = 0; k < LINE_ROOM && isNumberAt(next); k++) {
                 end = endOfNumber(next);
                 if (end < 0 || isTail(at(end))) {
                     return -1;
@@ -2347,7 +2342,7 @@ public final class RankTrain {
             boolean isNegative = at(from) == '_';
             long size = 0;
             int place = isNegative ? from + 1 : from;
-            while (isDigit(at(place)) && size <= MOST_WHOLE + 1) {
+            while (place < typed && isDigit(at(place)) && size <= MOST_WHOLE + 1) {
                 size = size * 10 + at(place) - '0';
                 place++;
             }
@@ -2364,7 +2359,7 @@ public final class RankTrain {
             }
             boolean isNegative = at(from) == '_';
             long size = 0;
-            for (int place = isNegative ? from + 1 : from; isDigit(at(place)); place++) {
+            for (int place = isNegative ? from + 1 : from; place < typed && isDigit(at(place)); place++) {
                 size = size * 10 + at(place) - '0';
             }
             return isNegative ? -size : size;
@@ -2380,16 +2375,18 @@ public final class RankTrain {
             int end = word >= 0 && word < rightWords ? ends[word] : 0;
             int count = 0;
             char sort = 'i';
-            for (int place = start; place < end; place = nextNumber(place)) {
+            int place = start;
+            while (place < end && count < LINE_ROOM) {
                 sort = at(place) == '#' ? 'f' : sort;
                 count++;
+                place = nextNumber(place);
             }
             Noun noun = bench.blank(sort);
             if (count > 1) {
                 noun.addAxis(count);
             }
             bench.seal(noun, word);
-            int place = start;
+            place = start;
             for (int k = 0; k < noun.count; k++) {
                 long value = valueAt(place);
                 noun.cells[k] = sort == 'f' && at(place) != '#' ? Numbers.bitsOfWhole(value) : value;
